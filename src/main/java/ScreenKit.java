@@ -34,8 +34,7 @@ public final class ScreenKit {
     private static final int TREE = 16;
     private static final int TABLE = 17;
     private static final int PICTURE = 18;
-    private static final String KINDS = "row col grid stack flow scroll label button check radio field"
-        + " slider list gap tabs dialog tree table picture";
+    private static final String KINDS = "row col grid stack flow scroll label button check radio field slider list gap tabs dialog tree table picture";
 
     private static final int COLS = 0;
     private static final int BIND = 1;
@@ -264,12 +263,8 @@ public final class ScreenKit {
         if (asked == null) {
             return NONE;
         }
-        layout.fresh();
-        if (what >= 4 && what <= 7) {
+        if (what >= 4 && what <= 9) {
             return asked.place[what - 4];
-        }
-        if (what == 8 || what == 9) {
-            return asked.least[what - 8];
         }
         switch (what) {
             case 0: return asked.kind;
@@ -291,7 +286,6 @@ public final class ScreenKit {
         if (asked == null || what < 0 || what > SHAPE) {
             throw new IllegalArgumentException();
         }
-        layout.fresh();
         return asked.style[what];
     }
 
@@ -300,7 +294,6 @@ public final class ScreenKit {
         if (asked == null || what < 0 || what > SHAPE) {
             throw new IllegalArgumentException();
         }
-        layout.fresh();
         return asked.rule[what];
     }
 
@@ -330,7 +323,6 @@ public final class ScreenKit {
         if (asked == null || asked.kind == FIELD) {
             return NONE;
         }
-        layout.fresh();
         letters.rowsOf(asked);
         if (i < 0 || i >= letters.rows) {
             return NONE;
@@ -352,7 +344,6 @@ public final class ScreenKit {
         if (asked == null) {
             return NONE;
         }
-        layout.fresh();
         return asked.hidden ? NONE : form.speak(asked, k);
     }
 
@@ -379,14 +370,9 @@ public final class ScreenKit {
             case 10: return ticks;
             case 11: return form.data.count;
             case 12: return form.tongue.count;
-            case 13: return topDialog();
+            case 13: return number(form.top());
             default: return NONE;
         }
-    }
-
-    private int topDialog() {
-        layout.fresh();
-        return number(form.top());
     }
 
     private static int number(Widget w) {
@@ -428,7 +414,6 @@ public final class ScreenKit {
     public int point(int x, int y) {
         pointerX = x;
         pointerY = y;
-        layout.fresh();
         form.hover = form.over(x, y);
         form.stale = true;
         layout.fresh();
@@ -610,7 +595,6 @@ public final class ScreenKit {
         if (n < -1000 || n > 1000) {
             return OUTSIDE;
         }
-        layout.fresh();
         for (Widget w = form.hover; w != null; w = w.parent) {
             if (w.kind == SCROLL || w.kind == LIST || w.kind == TREE || w.kind == TABLE) {
                 turn(w, n);
@@ -618,7 +602,6 @@ public final class ScreenKit {
                 return w.number;
             }
         }
-        settle();
         return NONE;
     }
 
@@ -639,7 +622,6 @@ public final class ScreenKit {
             return OUTSIDE;
         }
         Widget had = form.focus;
-        layout.fresh();
         if (!Field.isTyped(k)) {
             form.endTyping();
         }
@@ -649,6 +631,11 @@ public final class ScreenKit {
             closeTop();
         } else if (had != null) {
             keyOf(had, k, shift);
+        }
+        if (had != null && isRowKey(had, k)) {
+            form.stale = true;
+            layout.fresh();
+            form.showSelected(had);
         }
         settle();
         return number(had);
@@ -684,7 +671,9 @@ public final class ScreenKit {
                 keyOfField(w, k, shift);
                 break;
             default:
-                keyOfRows(w, k);
+                if (isRowKey(w, k)) {
+                    keyOfRows(w, k);
+                }
                 break;
         }
     }
@@ -701,10 +690,10 @@ public final class ScreenKit {
         Field f = w.field;
         switch (k) {
             case KEY_COPY:
-                copy(w);
+                copySelection(w);
                 break;
             case KEY_CUT:
-                copy(w);
+                copySelection(w);
                 f.replace(w, clipped, 0, false);
                 break;
             case KEY_PASTE:
@@ -730,30 +719,30 @@ public final class ScreenKit {
         }
     }
 
-    private void copy(Widget w) {
+    private void copySelection(Widget w) {
         Field f = w.field;
         if (f.caret != f.anchor) {
             clippedCount = f.to() - f.from();
-            System.arraycopy(w.text, f.from(), clipped, 0, clippedCount);
+            copySigns(w.text, f.from(), clipped, 0, clippedCount);
         }
     }
 
+    private static boolean isRowKey(Widget w, int k) {
+        boolean steps = k == KEY_UP || k == KEY_DOWN || k == KEY_HOME || k == KEY_END;
+        boolean branches = w.kind == TREE && (k == KEY_LEFT || k == KEY_RIGHT);
+        return branches || (steps && (w.kind == LIST || w.kind == TREE || w.kind == TABLE));
+    }
+
     private void keyOfRows(Widget w, int k) {
-        if (w.kind == TREE && (k == KEY_LEFT || k == KEY_RIGHT)) {
+        if (k == KEY_LEFT || k == KEY_RIGHT) {
             keyOfBranch(w, k);
-        } else if (k != KEY_UP && k != KEY_DOWN && k != KEY_HOME && k != KEY_END) {
             return;
-        } else {
-            int n = form.shownCount(w);
-            if (n <= 0) {
-                return;
-            }
+        }
+        int n = form.shownCount(w);
+        if (n > 0) {
             int at = form.placeOf(w, form.selected(w));
             form.select(w, form.shownAt(w, stepTo(k, at, n)));
         }
-        form.stale = true;
-        layout.fresh();
-        form.showSelected(w);
     }
 
     private static int stepTo(int k, int at, int n) {
@@ -787,7 +776,6 @@ public final class ScreenKit {
         if (told == null) {
             return NO_WIDGET;
         }
-        layout.fresh();
         if (!form.canFocus(told)) {
             return NOT_NOW;
         }
@@ -809,7 +797,6 @@ public final class ScreenKit {
         if (form.movesUnderWay() >= MOST_MOVES && !told.isMoving(property)) {
             return NONE;
         }
-        layout.fresh();
         int held = Math.max(0, Math.min(PROPERTY_MOST[property], to));
         told.startMove(property, held, ticks);
         settle();
@@ -832,7 +819,6 @@ public final class ScreenKit {
     // ---- what is painted ----
 
     public int paint() {
-        layout.fresh();
         int n = painter.clean();
         for (int i = 0; n > 0 && i < form.rowCount; i++) {
             painter.draw(form.row[i]);
@@ -925,6 +911,18 @@ public final class ScreenKit {
         }
     }
 
+    private static void copySigns(char[] from, int at, char[] to, int place, int n) {
+        for (int k = 0; k < n && at + k < from.length && place + k < to.length; k++) {
+            to[place + k] = from[at + k];
+        }
+    }
+
+    private static char[] part(char[] signs, int from, int to) {
+        char[] part = new char[Math.max(0, to - from)];
+        copySigns(signs, from, part, 0, part.length);
+        return part;
+    }
+
     private static boolean isBox(int kind) {
         return kind <= SCROLL || kind == TABS || kind == DIALOG;
     }
@@ -996,7 +994,7 @@ public final class ScreenKit {
                 }
             }
             length = 0;
-            return Arrays.copyOf(signs, n);
+            return part(signs, 0, n);
         }
 
         boolean failed() {
@@ -1228,7 +1226,7 @@ public final class ScreenKit {
 
         char[] copyOf(int line, int part) {
             int start = start(line, part);
-            return Arrays.copyOfRange(signs, start, start + length(line, part));
+            return part(signs, start, start + length(line, part));
         }
 
         /** Whether a part of a line has these signs one behind the other. */
@@ -1302,7 +1300,7 @@ public final class ScreenKit {
         }
 
         void copy(Lines other) {
-            System.arraycopy(other.signs, 0, signs, 0, signs.length);
+            copySigns(other.signs, 0, signs, 0, signs.length);
             System.arraycopy(other.starts, 0, starts, 0, starts.length);
             System.arraycopy(other.lengths, 0, lengths, 0, lengths.length);
             System.arraycopy(other.parts, 0, parts, 0, parts.length);
@@ -1586,6 +1584,8 @@ public final class ScreenKit {
 
     /** A widget: what it was told, its place among the others, its values and places as they count now. */
     private static final class Widget {
+        static final int LEAST_WIDE = 4;
+        static final int LEAST_HIGH = 5;
         static final int MOVING = 1;
         static final int MOVED = 2;
         static final int MOVE_NUMBERS = 5;
@@ -1608,9 +1608,8 @@ public final class ScreenKit {
         final int[] moves = new int[(GROW - LINE + 1) * MOVE_NUMBERS];
         boolean hidden;
         Widget home;
-        // x, y, width, height
-        final int[] place = new int[4];
-        final int[] least = new int[2];
+        // x, y, width, height, least width and height, and x, y, width, height of the content
+        final int[] place = new int[10];
         // left, top, right, bottom of what is visible of it, and of its content for what is in it
         final int[] seen = new int[8];
         final Field field;
@@ -1647,19 +1646,19 @@ public final class ScreenKit {
         }
 
         int contentX() {
-            return place[0] + frame();
+            return place[6];
         }
 
         int contentY() {
-            return place[1] + frame();
+            return place[7];
         }
 
         int contentWidth() {
-            return Math.max(0, place[2] - 2 * frame());
+            return place[8];
         }
 
         int contentHeight() {
-            return Math.max(0, place[3] - 2 * frame());
+            return place[9];
         }
 
         boolean isSeenAt(int x, int y) {
@@ -1668,7 +1667,7 @@ public final class ScreenKit {
 
         /** Where in the content something of this width stands, which stands at x if dir is 0. */
         int turned(int x, int wide) {
-            return style[DIR] == 1 ? contentWidth() - x - wide : x;
+            return style[DIR] == 1 ? place[8] - x - wide : x;
         }
 
         /** Which way the keys left and right go. */
@@ -1679,13 +1678,13 @@ public final class ScreenKit {
         /** How many rows are seen wholly; one at least. */
         int wholeRows() {
             int head = kind == TABLE ? ROW_LINES : 0;
-            return Math.max(1, (contentHeight() - head) / ROW_LINES);
+            return Math.max(1, (place[9] - head) / ROW_LINES);
         }
 
         /** How far a scroll can be scrolled, as it is placed. */
         int scrollRoom() {
             int high = kid != null && kid.kind != DIALOG ? kid.place[3] : 0;
-            return Math.max(0, high - contentHeight());
+            return Math.max(0, high - place[9]);
         }
 
         boolean isMoving(int property) {
@@ -1826,9 +1825,9 @@ public final class ScreenKit {
             undoneCount = 0;
             int rest = w.text.length - to;
             char[] text = new char[from + n + rest];
-            System.arraycopy(w.text, 0, text, 0, from);
-            System.arraycopy(signs, 0, text, from, n);
-            System.arraycopy(w.text, to, text, from + n, rest);
+            copySigns(w.text, 0, text, 0, from);
+            copySigns(signs, 0, text, from, n);
+            copySigns(w.text, to, text, from + n, rest);
             w.write(text);
             caret = from + n;
             anchor = caret;
@@ -2064,12 +2063,12 @@ public final class ScreenKit {
 
         void take(char[] text) {
             count = Math.min(text.length, signs.length);
-            System.arraycopy(text, 0, signs, 0, count);
+            copySigns(text, 0, signs, 0, count);
         }
 
         void takePart(Lines lines, int line, int part) {
             count = Math.min(lines.length(line, part), signs.length);
-            System.arraycopy(lines.signs, lines.start(line, part), signs, 0, count);
+            copySigns(lines.signs, lines.start(line, part), signs, 0, count);
         }
 
         void takeNumber(int n) {
@@ -2424,7 +2423,7 @@ public final class ScreenKit {
             while (t.at < t.length && t.at - from < MOST_TEXT && t.signs[t.at] != '"' && t.signs[t.at] != 10) {
                 t.at++;
             }
-            w.write(Arrays.copyOfRange(t.signs, from, t.at));
+            w.write(part(t.signs, from, t.at));
             t.need('"');
         }
 
@@ -2858,10 +2857,10 @@ public final class ScreenKit {
             } else if (w.kind == FIELD) {
                 putText(w.text);
             } else if (w.kind == SLIDER) {
-                put(' ');
+                pass(' ');
                 putNumber(value(w));
             } else if (selected(w) >= 0) {
-                put(' ');
+                pass(' ');
                 putNumber(selected(w));
             }
             putState(" checked", checked(w));
@@ -2876,7 +2875,7 @@ public final class ScreenKit {
             found = NONE;
         }
 
-        private void put(int c) {
+        private void pass(int c) {
             if (passed == wanted) {
                 found = c;
             }
@@ -2885,16 +2884,16 @@ public final class ScreenKit {
 
         private void putState(String word, boolean is) {
             for (int i = 0; is && i < word.length(); i++) {
-                put(word.charAt(i));
+                pass(word.charAt(i));
             }
         }
 
         private void putText(char[] signs) {
             if (signs.length > 0) {
-                put(' ');
+                pass(' ');
             }
             for (int i = 0; i < signs.length; i++) {
-                put(signs[i]);
+                pass(signs[i]);
             }
         }
 
@@ -2905,19 +2904,19 @@ public final class ScreenKit {
                 if (c == ' ') {
                     at++;
                 } else if (at == place) {
-                    put(c);
+                    pass(c);
                 }
             }
         }
 
         private void putWord(int mark, long word) {
             if (word != 0) {
-                put(mark);
+                pass(mark);
             }
             for (int shift = 56; shift >= 0; shift -= 8) {
                 int c = (int) (word >>> shift) & 255;
                 if (c != 0) {
-                    put(c);
+                    pass(c);
                 }
             }
         }
@@ -2925,14 +2924,14 @@ public final class ScreenKit {
         private void putNumber(int n) {
             long rest = Math.abs((long) n);
             if (n < 0) {
-                put('-');
+                pass('-');
             }
             long unit = 1;
             while (unit <= rest / 10) {
                 unit *= 10;
             }
             for (; unit > 0; unit /= 10) {
-                put((int) ('0' + rest / unit % 10));
+                pass((int) ('0' + rest / unit % 10));
             }
         }
 
@@ -2942,15 +2941,15 @@ public final class ScreenKit {
                 Widget w = all[i];
                 writeHead(w);
                 if (w.kid != null) {
-                    put('{');
+                    pass('{');
                     continue;
                 }
                 for (Widget up = w; up != null && up.parent != null; up = up.parent) {
                     if (up.next != null) {
-                        put(' ');
+                        pass(' ');
                         break;
                     }
-                    put('}');
+                    pass('}');
                 }
             }
             return found;
@@ -2965,29 +2964,29 @@ public final class ScreenKit {
             int mark = '(';
             for (int a = 0; a <= DO; a++) {
                 if (w.attributes[a] != ATTRIBUTE_FIRST[a]) {
-                    put(mark);
+                    pass(mark);
                     writeAttribute(w, a);
                     mark = ',';
                 }
             }
             if (mark == ',') {
-                put(')');
+                pass(')');
             }
             if (w.text.length > 0) {
-                put('"');
+                pass('"');
                 for (int i = 0; i < w.text.length; i++) {
-                    put(w.text[i]);
+                    pass(w.text[i]);
                 }
-                put('"');
+                pass('"');
             }
         }
 
         private void writeAttribute(Widget w, int a) {
             putWordOf(ATTRIBUTES, a);
-            put('=');
+            pass('=');
             putNumber(w.attributes[a]);
             if (a == DO) {
-                put(w.attributes[DO_SIGN]);
+                pass(w.attributes[DO_SIGN]);
                 putNumber(w.attributes[DO_NUMBER]);
             }
         }
@@ -3294,8 +3293,8 @@ public final class ScreenKit {
                 } else if (!w.hidden) {
                     measureContent(w);
                 }
-                w.least[0] = w.hidden ? 0 : Math.max(w.style[WIDE], 2 * w.frame() + size[0]);
-                w.least[1] = w.hidden ? 0 : Math.max(w.style[TALL], 2 * w.frame() + size[1]);
+                w.place[Widget.LEAST_WIDE] = w.hidden ? 0 : Math.max(w.style[WIDE], 2 * w.frame() + size[0]);
+                w.place[Widget.LEAST_HIGH] = w.hidden ? 0 : Math.max(w.style[TALL], 2 * w.frame() + size[1]);
             }
             for (int i = 0; i < form.count; i++) {
                 placeTop(form.all[i]);
@@ -3412,7 +3411,7 @@ public final class ScreenKit {
         private int widest(int axis) {
             int most = 0;
             for (int i = 0; i < kidCount; i++) {
-                most = Math.max(most, kids[i].least[axis]);
+                most = Math.max(most, kids[i].place[Widget.LEAST_WIDE + axis]);
             }
             return most;
         }
@@ -3420,7 +3419,7 @@ public final class ScreenKit {
         private void measureLine(Widget box, int axis) {
             size[axis] = gaps(box, kidCount);
             for (int i = 0; i < kidCount; i++) {
-                size[axis] += kids[i].least[axis];
+                size[axis] += kids[i].place[Widget.LEAST_WIDE + axis];
             }
             size[1 - axis] = widest(1 - axis);
         }
@@ -3432,8 +3431,8 @@ public final class ScreenKit {
             Arrays.fill(spans[0], 0);
             Arrays.fill(spans[1], 0);
             for (int i = 0; i < kidCount; i++) {
-                spans[0][i % cols] = Math.max(spans[0][i % cols], kids[i].least[0]);
-                spans[1][i / cols] = Math.max(spans[1][i / cols], kids[i].least[1]);
+                spans[0][i % cols] = Math.max(spans[0][i % cols], kids[i].place[Widget.LEAST_WIDE]);
+                spans[1][i / cols] = Math.max(spans[1][i / cols], kids[i].place[Widget.LEAST_HIGH]);
             }
         }
 
@@ -3466,9 +3465,9 @@ public final class ScreenKit {
         /** The end of a flow's row that begins with this child. */
         private int flowEnd(Widget box, int from, int limit) {
             int end = from + 1;
-            int wide = kids[from].least[0];
-            while (end < kidCount && wide + box.style[GAP] + kids[end].least[0] <= limit) {
-                wide += box.style[GAP] + kids[end].least[0];
+            int wide = kids[from].place[Widget.LEAST_WIDE];
+            while (end < kidCount && wide + box.style[GAP] + kids[end].place[Widget.LEAST_WIDE] <= limit) {
+                wide += box.style[GAP] + kids[end].place[Widget.LEAST_WIDE];
                 end++;
             }
             return end;
@@ -3477,7 +3476,7 @@ public final class ScreenKit {
         private int flowHigh(int from, int end) {
             int high = 0;
             for (int i = from; i < end; i++) {
-                high = Math.max(high, kids[i].least[1]);
+                high = Math.max(high, kids[i].place[Widget.LEAST_HIGH]);
             }
             return high;
         }
@@ -3495,10 +3494,10 @@ public final class ScreenKit {
         /** Places what no box places: widget 0, dialogs, and hidden ones. */
         private void placeTop(Widget w) {
             if (w.hidden) {
-                Arrays.fill(w.place, 0);
+                Arrays.fill(w.place, 0, 4, 0);
             } else if (w.kind == DIALOG) {
-                w.place[2] = Math.min(screenWide, w.least[0]);
-                w.place[3] = Math.min(screenHigh, w.least[1]);
+                w.place[2] = Math.min(screenWide, w.place[Widget.LEAST_WIDE]);
+                w.place[3] = Math.min(screenHigh, w.place[Widget.LEAST_HIGH]);
                 w.place[0] = (screenWide - w.place[2]) / 2;
                 w.place[1] = (screenHigh - w.place[3]) / 2;
             } else if (w.parent == null) {
@@ -3509,22 +3508,28 @@ public final class ScreenKit {
             }
         }
 
-        /** What is visible of a widget, and of its content. */
+        /** Where a widget's content is, and what is visible of both. */
         private void look(Widget w) {
             int[] seen = w.seen;
+            int[] place = w.place;
+            int frame = w.frame();
+            place[6] = place[0] + frame;
+            place[7] = place[1] + frame;
+            place[8] = Math.max(0, place[2] - 2 * frame);
+            place[9] = Math.max(0, place[3] - 2 * frame);
             boolean free = w.parent == null || w.kind == DIALOG;
             int left = free ? 0 : w.parent.seen[4];
             int top = free ? 0 : w.parent.seen[5];
             int right = free ? screenWide : w.parent.seen[6];
             int bottom = free ? screenHigh : w.parent.seen[7];
-            seen[0] = Math.max(left, w.place[0]);
-            seen[1] = Math.max(top, w.place[1]);
-            seen[2] = Math.min(right, w.place[0] + w.place[2]);
-            seen[3] = Math.min(bottom, w.place[1] + w.place[3]);
-            seen[4] = Math.max(left, w.contentX());
-            seen[5] = Math.max(top, w.contentY());
-            seen[6] = Math.min(right, w.contentX() + w.contentWidth());
-            seen[7] = Math.min(bottom, w.contentY() + w.contentHeight());
+            seen[0] = Math.max(left, place[0]);
+            seen[1] = Math.max(top, place[1]);
+            seen[2] = Math.min(right, place[0] + place[2]);
+            seen[3] = Math.min(bottom, place[1] + place[3]);
+            seen[4] = Math.max(left, place[6]);
+            seen[5] = Math.max(top, place[7]);
+            seen[6] = Math.min(right, place[6] + place[8]);
+            seen[7] = Math.min(bottom, place[7] + place[9]);
             for (int i = 0; i < 8; i += 4) {
                 if (w.hidden || seen[i] >= seen[i + 2] || seen[i + 1] >= seen[i + 3]) {
                     Arrays.fill(seen, i, i + 4, 0);
@@ -3533,8 +3538,8 @@ public final class ScreenKit {
         }
 
         private void placeKids(Widget w) {
-            room[0] = w.contentWidth();
-            room[1] = w.contentHeight();
+            room[0] = w.place[8];
+            room[1] = w.place[9];
             switch (w.kind) {
                 case ROW:
                     placeLine(w, 0);
@@ -3553,7 +3558,7 @@ public final class ScreenKit {
                     break;
                 case TABS:
                     if (kidCount > 0) {
-                        put(w, kids[0], 0, HEADER_LINES, room[0], Math.max(0, room[1] - HEADER_LINES));
+                        stand(w, kids[0], 0, HEADER_LINES, room[0], Math.max(0, room[1] - HEADER_LINES));
                     }
                     break;
                 default:
@@ -3565,9 +3570,10 @@ public final class ScreenKit {
         }
 
         /** Puts a child at a place of the content, which stands turned with dir 1. */
-        private static void put(Widget box, Widget kid, int x, int y, int wide, int high) {
-            kid.place[0] = box.contentX() + box.turned(x, wide);
-            kid.place[1] = box.contentY() + y;
+        private static void stand(Widget box, Widget kid, int x, int y, int wide, int high) {
+            int turned = box.place[8] - x - wide;
+            kid.place[0] = box.place[6] + (box.style[DIR] == 1 ? turned : x);
+            kid.place[1] = box.place[7] + y;
             kid.place[2] = wide;
             kid.place[3] = high;
         }
@@ -3575,9 +3581,9 @@ public final class ScreenKit {
         /** Puts a child into a cell of the content by the box's align. */
         private static void placeIn(Widget box, Widget kid, int x, int y, int wide, int high) {
             int align = box.style[ALIGN];
-            int w = aligned(align, wide, kid.least[0]);
-            int h = aligned(align, high, kid.least[1]);
-            put(box, kid, x + shift(align, wide - w), y + shift(align, high - h), w, h);
+            int w = aligned(align, wide, kid.place[Widget.LEAST_WIDE]);
+            int h = aligned(align, high, kid.place[Widget.LEAST_HIGH]);
+            stand(box, kid, x + shift(align, wide - w), y + shift(align, high - h), w, h);
         }
 
         private static int aligned(int align, int whole, int least) {
@@ -3596,7 +3602,7 @@ public final class ScreenKit {
             int left = room[axis] - gaps(box, kidCount);
             for (int i = 0; i < kidCount; i++) {
                 grows += kids[i].style[GROW];
-                left -= kids[i].least[axis];
+                left -= kids[i].place[Widget.LEAST_WIDE + axis];
             }
             int given = 0;
             for (int i = 0; i < kidCount; i++) {
@@ -3606,17 +3612,17 @@ public final class ScreenKit {
             int at = 0;
             for (int i = 0; i < kidCount; i++) {
                 Widget k = kids[i];
-                int along = k.least[axis] + share(left, k.style[GROW], grows);
+                int along = k.place[Widget.LEAST_WIDE + axis] + share(left, k.style[GROW], grows);
                 if (more > 0 && k.style[GROW] != 0) {
                     along++;
                     more--;
                 }
                 if (axis == 0) {
-                    int high = aligned(box.style[ALIGN], room[1], k.least[1]);
-                    put(box, k, at, shift(box.style[ALIGN], room[1] - high), along, high);
+                    int high = aligned(box.style[ALIGN], room[1], k.place[Widget.LEAST_HIGH]);
+                    stand(box, k, at, shift(box.style[ALIGN], room[1] - high), along, high);
                 } else {
-                    int wide = aligned(box.style[ALIGN], room[0], k.least[0]);
-                    put(box, k, shift(box.style[ALIGN], room[0] - wide), at, wide, along);
+                    int wide = aligned(box.style[ALIGN], room[0], k.place[Widget.LEAST_WIDE]);
+                    stand(box, k, shift(box.style[ALIGN], room[0] - wide), at, wide, along);
                 }
                 at += along + box.style[GAP];
             }
@@ -3661,8 +3667,8 @@ public final class ScreenKit {
                 int end = flowEnd(box, from, room[0]);
                 int x = 0;
                 for (int i = from; i < end; i++) {
-                    put(box, kids[i], x, y, kids[i].least[0], kids[i].least[1]);
-                    x += kids[i].least[0] + box.style[GAP];
+                    stand(box, kids[i], x, y, kids[i].place[Widget.LEAST_WIDE], kids[i].place[Widget.LEAST_HIGH]);
+                    x += kids[i].place[Widget.LEAST_WIDE] + box.style[GAP];
                 }
                 y += flowHigh(from, end) + box.style[GAP];
                 from = end - 1;
@@ -3671,9 +3677,9 @@ public final class ScreenKit {
 
         private void placeScrolled(Widget box) {
             if (kidCount > 0) {
-                int wide = Math.max(room[0], kids[0].least[0]);
-                int high = Math.max(room[1], kids[0].least[1]);
-                put(box, kids[0], 0, -Math.min(box.rows.top, high - room[1]), wide, high);
+                int wide = Math.max(room[0], kids[0].place[Widget.LEAST_WIDE]);
+                int high = Math.max(room[1], kids[0].place[Widget.LEAST_HIGH]);
+                stand(box, kids[0], 0, -Math.min(box.rows.top, high - room[1]), wide, high);
             }
         }
 
@@ -3923,16 +3929,14 @@ public final class ScreenKit {
             int at = y * width + x;
             if (dirty[at]) {
                 int a = colour >>> 24;
-                int was = pixels[at];
-                int red = mixed(a, was >> 16 & 255, colour >> 16 & 255);
-                int green = mixed(a, was >> 8 & 255, colour >> 8 & 255);
-                int blue = mixed(a, was & 255, colour & 255);
-                pixels[at] = 0xff000000 | red << 16 | green << 8 | blue;
+                int mixed = 255;
+                for (int shift = 16; shift >= 0; shift -= 8) {
+                    int was = pixels[at] >>> shift & 255;
+                    int own = colour >>> shift & 255;
+                    mixed = mixed << 8 | ((255 - a) * was + a * own + 127) / 255;
+                }
+                pixels[at] = mixed;
             }
-        }
-
-        private static int mixed(int a, int was, int own) {
-            return ((255 - a) * was + a * own + 127) / 255;
         }
 
         private void fill(int x, int y, int wide, int high, int colour) {
