@@ -415,8 +415,6 @@ public final class ScreenKit {
         pointerX = x;
         pointerY = y;
         form.hover = form.over(x, y);
-        form.stale = true;
-        layout.fresh();
         drag(form.pressed);
         settle();
         return number(form.hover);
@@ -426,6 +424,8 @@ public final class ScreenKit {
         if (w == null) {
             return;
         }
+        form.stale = true;
+        layout.fresh();
         if (w.kind == SLIDER) {
             slide(w);
         }
@@ -4201,7 +4201,6 @@ public final class ScreenKit {
         }
 
         private void drawTabs(Widget w) {
-            clip[3] = Math.min(clip[3], w.contentY() + HEADER_LINES);
             int at = 0;
             int page = 0;
             for (Widget k = w.kid; k != null; k = k.next) {

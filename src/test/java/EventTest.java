@@ -218,6 +218,22 @@ public final class EventTest {
         kit.point(10, 3);
         kit.down();
         Check.same("by its places then", kit.cell(3), 6);
+        kit.up();
+        Check.style(kit, "slider:press{pad:3;}");
+        kit.point(10, 3);
+        kit.down();
+        Check.same("as pressed", kit.cell(3), 6);
+        kit.point(40, 3);
+        kit.point(11, 3);
+        Check.same("as hovered again", kit.cell(3), 7);
+        kit.point(11, 30);
+        Check.same("not hovered", kit.cell(3), 10 * 24 / 30);
+        Check.form(kit, "row{button button}");
+        Check.style(kit, "button:focus{wide:20;}button:hover{tall:9;}");
+        kit.focus(2);
+        Check.same("focus counts at once", kit.widget(2, 8), 20);
+        kit.focus(1);
+        Check.same("and for the other", kit.widget(2, 8), 0);
     }
 
     private static void keys() {

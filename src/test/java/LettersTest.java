@@ -159,6 +159,9 @@ public final class LettersTest {
         Check.same("the other", Check.ordered(kit, 8, 0), "x");
         Check.tell(kit, "two=x\"").tongue();
         Check.same("behind a fault as it was", Check.ordered(kit, 8, 0), "x");
+        ScreenKit alone = Check.made(60, 40, "label\"@w\"", "");
+        Check.tell(alone, "v=x\nw=abc").tongue();
+        Check.same("widget 0", Check.ordered(alone, 0, 0) + alone.widget(0, 8), "abc12");
         Check.same("another text", Check.tell(kit, "a\"b\nc" + "d".repeat(50)).text(1), 40);
         Check.same("but line ends and \"", Check.letters(kit, 1), "abc" + "d".repeat(37));
         Check.same("the word of a line", Check.tell(kit, "@on").text(1), 3);

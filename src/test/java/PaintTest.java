@@ -86,6 +86,9 @@ public final class PaintTest {
             ".......#..######", ".......#..#....#", ".......#..#.##.#", ".......#..#.##.#", ".......#..#....#",
             "..........######", ".......#...####.", ".......#..#....#", ".......#..#....#", ".......#..#....#",
             ".......#..#....#", "...........####.");
+        painted("", "col{check\"b\" radio\"a\" check}", 16, 7,
+            "######.###......", "#....#..........", "#....#..........", "#....#..........", "#....#..........",
+            "######..........", ".####..#........");
         painted("*{pad:6;}", "check", 16, 11,
             "................", "................", "................", "................", "................",
             "................", "......####......", "......#.........", "......#.........", "......#.........",
@@ -499,6 +502,82 @@ public final class PaintTest {
         Check.same("nothing", kit.paint(), 0);
     }
 
+    private static void dirtySorts() {
+        ScreenKit kit = kit(20, 40, "", "col{table tree\"a(b)\" tabs{gap\"a\" gap\"b\"}}");
+        Check.tell(kit, "h\n1\n1").data();
+        kit.able(0, true);
+        kit.paint();
+        for (int n = 0; n < 3; n++) {
+            kit.able(0, false);
+            Check.click(kit, 3, 3);
+            kit.able(0, true);
+            Check.same("up, down, not at all", kit.paint(), 20 * 18);
+        }
+        kit.able(0, false);
+        Check.click(kit, 3, 19);
+        kit.able(0, true);
+        Check.same("opened", kit.paint(), 20 * 12);
+        kit.able(0, false);
+        Check.click(kit, 10, 31);
+        kit.able(0, true);
+        Check.same("another page", kit.paint(), 20 * 8);
+        kit.able(0, false);
+        Check.click(kit, 3, 7);
+        kit.able(0, true);
+        Check.same("a row", kit.paint(), 20 * 18);
+    }
+
+    private static void dirtyStock() {
+        ScreenKit kit = new ScreenKit(16, 16);
+        Check.form(kit, "stack{picture gap.g}");
+        Check.style(kit, ".g{shape:8;}");
+        kit.paint();
+        kit.dot(1, 0, 0, 5);
+        Check.same("image 1", kit.paint(), 256);
+        Check.same("as painted", kit.paint(), 0);
+        kit.image(1, 1, 2);
+        kit.dot(1, 0, 0, 5);
+        Check.same("another size", kit.paint(), 256);
+        Check.tell(kit, "m1 0l9 9l0 9z").shape(8);
+        Check.same("shape 8", kit.paint(), 256);
+        Check.same("as painted", kit.paint(), 0);
+        Check.tell(kit, "m2 0l9 9l0 9z").shape(8);
+        Check.same("its first point", kit.paint(), 256);
+        Check.tell(kit, "m2 0l9 9l0 8z").shape(8);
+        Check.same("its last point", kit.paint(), 256);
+        Check.tell(kit, "m2 0l9 9l0 8l0 8l0 8l0 8z").shape(8);
+        kit.paint();
+        Check.tell(kit, "m2 0l9 9l0 8zm0 8l0 8l0 8z").shape(8);
+        Check.same("other rings of the same points", kit.paint(), 256);
+        Check.tell(kit, "m0 0l256 0l256 256l0 256z").shape(1);
+        Check.style(kit, ".g{shape:1;ink:ff00ff00;}");
+        kit.paint();
+        Check.same("shape 1", kit.pixel(0, 0) + "/" + kit.pixel(15, 15), 0xff00ff00 + "/" + 0xff00ff00);
+    }
+
+    /** What a box's content cuts, on each side. */
+    private static void cuts() {
+        ScreenKit kit = kit(16, 16, "stack{pad:4;align:1;}.g{wide:16;tall:16;paper:ff000000;}scroll{pad:1;}.h{wide:16;tall:30;"
+            + "paper:ff000000;}", "stack{gap.g}");
+        kit.paint();
+        String out = "................";
+        String in = "....########....";
+        seen(kit, "cut", 16, 16, out, out, out, out, in, in, in, in, in, in, in, in, out, out, out, out);
+        Check.style(kit, "stack{pad:4;align:2;dir:1;}.g{wide:16;tall:16;paper:ff000000;}");
+        kit.paint();
+        seen(kit, "cut", 16, 16, out, out, out, out, in, in, in, in, in, in, in, in, out, out, out, out);
+        Check.form(kit, "scroll{stack{gap.g}}");
+        Check.style(kit, "scroll{pad:2;}stack{pad:1;}.g{tall:30;paper:ff000000;}");
+        kit.point(8, 8);
+        kit.wheel(1);
+        kit.paint();
+        in = "...##########...";
+        seen(kit, "scrolled", 16, 16, out, out, in, in, in, in, in, in, in, in, in, in, in, in, out, out);
+        kit.wheel(10);
+        kit.paint();
+        seen(kit, "to the end", 16, 16, out, out, in, in, in, in, in, in, in, in, in, in, in, out, out, out);
+    }
+
     private static void dirtyDialogs() {
         ScreenKit kit = kit(40, 30, "#a{wide:8;tall:8;paper:ffff0000;}#b{wide:10;tall:6;paper:ff0000ff;}",
             "stack{dialog(bind=0){gap#a} dialog(bind=1){gap#b}}");
@@ -516,6 +595,11 @@ public final class PaintTest {
         Check.same("none", kit.paint(), 60);
         kit.put(1, 0);
         Check.same("nothing", kit.paint(), 0);
+        kit.put(1, 1);
+        kit.put(0, 1);
+        kit.paint();
+        Check.style(kit, "#a{wide:8;tall:8;paper:ffff0000;}#b{wide:10;tall:6;paper:ff0000ff;}*{grow:1;}");
+        Check.same("the same row of them", kit.paint(), 0);
     }
 
     public static void main(String[] args) {
@@ -533,6 +617,9 @@ public final class PaintTest {
         dirty();
         dirtyLooks();
         dirtyDialogs();
+        dirtySorts();
+        dirtyStock();
+        cuts();
         Check.end("PaintTest");
     }
 }

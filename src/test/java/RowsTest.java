@@ -289,12 +289,68 @@ public final class RowsTest {
         Check.same("bound to none", kit.widget(2, 15), 0);
     }
 
+    /** The top is held to the last row that is shown, and no further. */
+    private static void tops() {
+        ScreenKit kit = new ScreenKit(40, 18);
+        Check.tell(kit, "h\n0\n00\n01\n1\n10\n1\"\n2\n3").data();
+        Check.form(kit, "stack{table tree\"a(bcdef)\"}");
+        Check.style(kit, "tree{hide:1;}");
+        kit.point(3, 8);
+        kit.wheel(100);
+        Check.same("two of eight are seen", kit.widget(1, 14), 6);
+        Check.same("four with it", Check.tell(kit, "1").filter(1), 4);
+        Check.same("to the last", kit.widget(1, 14), 3);
+        Check.same("one with it", Check.tell(kit, "1\"").filter(1), 1);
+        Check.same("to the only one", kit.widget(1, 14) * 10 + kit.shown(1, 0), 5);
+        kit.filter(1);
+        Check.click(kit, 3, 3);
+        Check.same("by values, then by signs", shown(kit, 1), "0 1 2 3 6 7 4 5");
+        kit.wheel(100);
+        kit.data();
+        Check.same("without rows", kit.widget(1, 14), 0);
+        Check.style(kit, "table{hide:1;}");
+        kit.point(3, 1);
+        kit.down();
+        kit.up();
+        kit.wheel(2);
+        Check.same("opened", shown(kit, 2) + "/" + kit.widget(2, 14), "0 1 2 3 4 5/2");
+        kit.put(1, 1);
+        kit.focus(2);
+        kit.key(3, false);
+        kit.wheel(3);
+        kit.key(1, false);
+        Check.same("the selected one is seen", shown(kit, 2) + "/" + kit.widget(2, 14), "0/0");
+    }
+
+    /** Beside the content there is no row. */
+    private static void frames() {
+        ScreenKit kit = new ScreenKit(40, 40);
+        Check.style(kit, "*{pad:4;}");
+        String[] forms = {"list(rows=9)", "tree\"abcdefgh\""};
+        for (String form : forms) {
+            Check.form(kit, form);
+            int[][] none = {{3, 10}, {36, 10}, {10, 3}, {10, 36}};
+            for (int[] n : none) {
+                kit.point(n[0], n[1]);
+                Check.same("pressed", kit.down(), 0);
+                Check.same("no row at " + n[0] + ", " + n[1], kit.widget(0, 15), -1);
+                kit.up();
+            }
+            Check.click(kit, 4, 4);
+            Check.same("the first", kit.widget(0, 15), 0);
+            Check.click(kit, 35, 35);
+            Check.same("the last", kit.widget(0, 15), 5);
+        }
+    }
+
     public static void main(String[] args) {
         lists();
         trees();
         treeTexts();
         tables();
         tableData();
+        tops();
+        frames();
         Check.end("RowsTest");
     }
 }
