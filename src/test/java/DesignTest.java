@@ -168,6 +168,27 @@ public final class DesignTest {
         Check.same("and again", Check.tell(kit, "gap#n").insert(0, 0), 1);
     }
 
+    private static void dialogs() {
+        ScreenKit kit = new ScreenKit(40, 40);
+        kit.put(0, 1);
+        Check.form(kit, "col{button dialog(bind=0){gap.a} row{dialog(bind=0){button.b dialog(bind=0){gap.c}}}}");
+        Check.style(kit, ".a{wide:9;tall:9;}.b,.c{wide:5;tall:5;}");
+        kit.paint();
+        Check.same("the newest", kit.count(13), 7);
+        Check.same("it goes", kit.remove(7), 7);
+        Check.same("the next", kit.count(13), 5);
+        kit.focus(6);
+        Check.same("another goes", kit.remove(2), 5);
+        Check.same("the top one stays", kit.count(13) * 10 + kit.count(5), 34);
+        Check.same("what it was, and the one that is open", kit.paint(), 81);
+        Check.same("all of them go", kit.remove(2), 2);
+        Check.same("none", kit.count(13), -1);
+        Check.same("the other is reached again", kit.focus(1), 1);
+        Check.same("what it was, and the button", kit.paint(), 240 + 30);
+        Check.tell(kit, "dialog(bind=0){gap.a}").insert(0, 0);
+        Check.same("a new one", kit.count(13) * 10 + kit.count(5), 9);
+    }
+
     private static void dirty() {
         ScreenKit kit = new ScreenKit(20, 20);
         Check.form(kit, "col{gap.a row{gap.b} gap.c}");
@@ -192,6 +213,7 @@ public final class DesignTest {
         written();
         inserting();
         keeping();
+        dialogs();
         dirty();
         Check.end("DesignTest");
     }

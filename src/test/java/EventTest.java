@@ -278,6 +278,14 @@ public final class EventTest {
         kit.focus(3);
         kit.key(14, true);
         Check.same("a radio", kit.cell(2), 7);
+        Check.form(kit, "tabs{check(bind=0) button}");
+        kit.key(13, false);
+        Check.same("widget 0", kit.count(5), 0);
+        kit.key(13, false);
+        Check.same("cell 0", kit.key(14, false) * 100 + kit.cell(0) * 10 + kit.widget(1, 11), 122);
+        kit.put(0, 0);
+        kit.key(14, false);
+        Check.same("cell 0 is checked", kit.cell(0) * 100 + kit.widget(1, 10) * 10 + kit.count(5), 101);
         Check.form(kit, "row{label}");
         Check.same("none there is", kit.key(13, false), -1);
         Check.same("none", kit.count(5), -1);

@@ -90,6 +90,20 @@ public final class FieldTest {
         after(kit, 7, false, "abc 3 3 0 1 0");
     }
 
+    private static void erasing() {
+        ScreenKit kit = field("abcd", 60);
+        kit.key(3, false);
+        kit.key(2, false);
+        after(kit, 127, false, "acd 1 1 0 1 0");
+        after(kit, 127, false, "ad 1 1 0 2 0");
+        after(kit, 8, true, "d 0 0 0 3 0");
+        after(kit, 8, false, "d 0 0 0 3 0");
+        after(kit, 2, true, "d 1 0 0 3 0");
+        after(kit, 8, false, " 0 0 0 4 0");
+        after(kit, 11, false, "d 1 0 0 3 1");
+        after(kit, 11, false, "ad 1 1 0 2 2");
+    }
+
     private static void room() {
         String forty = "0123456789012345678901234567890123456789";
         ScreenKit kit = field(forty, 60);
@@ -193,6 +207,14 @@ public final class FieldTest {
         Check.same("within", kit.field(0, 0) * 10 + kit.field(0, 2), 30);
         kit.key(2, false);
         Check.same("the least greater one", kit.field(0, 2), 1);
+        kit = new ScreenKit(17, 16);
+        Check.form(kit, "field\"abcdefgh\"");
+        kit.focus(0);
+        kit.key(3, false);
+        for (int n = 0; n < 4; n++) {
+            kit.key(2, false);
+        }
+        Check.same("the caret is 1 wide: 16 is within 17", kit.field(0, 0) * 10 + kit.field(0, 2), 40);
         Check.style(kit, "field{pad:3;}");
         Check.same("a smaller content", kit.field(0, 2), 2);
         Check.style(kit, "");
@@ -239,6 +261,7 @@ public final class FieldTest {
     public static void main(String[] args) {
         typing();
         selecting();
+        erasing();
         room();
         steps();
         series();

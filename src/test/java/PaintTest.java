@@ -139,6 +139,13 @@ public final class PaintTest {
         kit.paint();
         seen(kit, "its selection", 16, 6, ".#...#.#.##.####", "......#.####...#", "......#.####...#", "......#.####...#",
             "......#.####...#", "########.#######");
+        kit.key(3, false);
+        kit.key(2, false);
+        kit.key(2, true);
+        kit.paint();
+        seen(kit, "another one", 16, 1, ".####..#...#####");
+        kit.key(4, false);
+        kit.key(1, true);
         kit.able(1, true);
         kit.paint();
         seen(kit, "a selection without focus", 16, 6, "#.###.#....#....", "#.....#.####....", "#.....#.####....",
@@ -578,6 +585,19 @@ public final class PaintTest {
         seen(kit, "to the end", 16, 16, out, out, in, in, in, in, in, in, in, in, in, in, in, out, out, out);
     }
 
+    /** A shape, an edge, FOCUS and a picture of a widget that stands somewhere. */
+    private static void somewhere() {
+        ScreenKit kit = kit(24, 16, "row{pad:3;gap:5;align:0;}gap{wide:8;tall:4;line:1;edge:ff00ff00;shape:1;}tabs{wide:4;tall:5;}",
+            "row{gap tabs}");
+        Check.tell(kit, "m0 0l256 0l256 128l128 128l128 256l0 256z").shape(1);
+        kit.focus(2);
+        kit.paint();
+        String out = "....................";
+        seen(kit, "somewhere", 20, 16, out, out, out, "...oooooooo.....####", "...o######o.....#..#", "...o###...o.....#..#",
+            "...oooooooo.....#..#", out.substring(0, 16) + "#..#", out.substring(0, 16) + "#..#",
+            out.substring(0, 16) + "#..#", out.substring(0, 16) + "####", out, out, out, out, out);
+    }
+
     private static void dirtyDialogs() {
         ScreenKit kit = kit(40, 30, "#a{wide:8;tall:8;paper:ffff0000;}#b{wide:10;tall:6;paper:ff0000ff;}",
             "stack{dialog(bind=0){gap#a} dialog(bind=1){gap#b}}");
@@ -620,6 +640,7 @@ public final class PaintTest {
         dirtySorts();
         dirtyStock();
         cuts();
+        somewhere();
         Check.end("PaintTest");
     }
 }

@@ -281,6 +281,9 @@ public final class ReadTest {
         Check.same("all is dirty", kit.paint(), 400);
         Check.form(kit, "label\"A\"");
         Check.same("its width", kit.widget(0, 8), 8);
+        kit.glyph(65, 5, 0);
+        Check.same("its width then", kit.widget(0, 8), 6);
+        kit.glyph(65, 7, 1L << 8 * 4 + 6 | 1L << 40 | 128);
         kit.paint();
         Check.same("its pixel alone", Check.picture(kit, 0, 0, 9, 6),
             ".........\n.........\n.........\n.........\n......#..\n.........\n");

@@ -180,6 +180,13 @@ public final class RowsTest {
         kit.key(1, false);
         kit.key(1, false);
         Check.same("the top is held", shown(kit, 0) + "/" + kit.widget(0, 15), "0 1/1");
+        Check.form(kit, "tree\"a(b)Z(9)\"");
+        kit.focus(0);
+        kit.key(10, false);
+        kit.key(2, false);
+        kit.key(10, false);
+        kit.key(1, false);
+        Check.same("node 0 around", shown(kit, 0) + "/" + kit.widget(0, 15), "0 1 2/0");
     }
 
     private static ScreenKit table(String data, int height) {

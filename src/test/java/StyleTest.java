@@ -125,6 +125,7 @@ public final class StyleTest {
         Check.same("not pressed", kit.widget(2, 11), 5);
         kit.able(2, true);
         Check.same("off has no focus", kit.widget(2, 11), 17);
+        Check.same("and no value of it", kit.styled(2, 8), 0);
     }
 
     public static void main(String[] args) {
