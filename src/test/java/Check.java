@@ -141,4 +141,116 @@ final class Check {
         kit.down();
         kit.up();
     }
+
+    /** All that can be asked of an object without changing it (but the tape): its answers, a line each. */
+    static String all(ScreenKit kit) {
+        StringBuilder b = new StringBuilder();
+        for (int what = 1; what <= 13; what++) {
+            b.append("count ").append(what).append(' ').append(kit.count(what)).append('\n');
+        }
+        for (int c = 0; c < 16; c++) {
+            b.append(kit.cell(c)).append(' ');
+        }
+        b.append("\nclip ").append(clip(kit)).append("\nwritten ").append(written(kit)).append('\n');
+        for (int w = 0; w < kit.count(1); w++) {
+            addWidget(b, kit, w);
+        }
+        for (int n = 1; n <= 8; n++) {
+            for (int i = 0; i < 64; i++) {
+                b.append(kit.cover(n, 8, 8, i % 8, i / 8)).append(' ');
+            }
+            b.append("shape ").append(n).append('\n');
+        }
+        for (int n = 1; n <= 4; n++) {
+            for (int i = 0; i < 32 * 32; i++) {
+                b.append(hasLanes(kit, n, i % 32, i / 32) ? kit.lanes(n, i % 32, i / 32) + " " : "");
+            }
+            b.append("image ").append(n).append('\n');
+        }
+        return b.append(pixels(kit)).toString();
+    }
+
+    private static void addWidget(StringBuilder b, ScreenKit kit, int w) {
+        b.append("widget ").append(w).append(':');
+        for (int what = 0; what < 16; what++) {
+            b.append(' ').append(kit.widget(w, what));
+        }
+        b.append(" /");
+        for (int p = 0; p < 13; p++) {
+            b.append(' ').append(kit.styled(w, p)).append(' ').append(kit.ruleOf(w, p));
+        }
+        b.append(" /").append(letters(kit, w)).append('/').append(spoken(kit, w)).append('/');
+        for (int i = 0; kit.ordered(w, i, 0) >= 0; i++) {
+            b.append(ordered(kit, w, i)).append('|');
+        }
+        for (int what = 0; what < 5; what++) {
+            b.append(' ').append(kit.field(w, what));
+        }
+        b.append(' ').append(shown(kit, w)).append('\n');
+    }
+
+    private static boolean hasLanes(ScreenKit kit, int n, int x, int y) {
+        try {
+            kit.lanes(n, x, y);
+            return true;
+        } catch (ArrayIndexOutOfBoundsException e) {
+            return false;
+        }
+    }
+
+    private static String pixels(ScreenKit kit) {
+        StringBuilder b = new StringBuilder();
+        for (int i = 0; i < 96 * 64; i++) {
+            try {
+                b.append(Integer.toHexString(kit.pixel(i % 96, i / 96))).append(i % 96 == 95 ? '\n' : ' ');
+            } catch (ArrayIndexOutOfBoundsException e) {
+                b.append('.');
+            }
+        }
+        return b.toString();
+    }
+
+    /** What a table's or tree's rows are, as they stand. */
+    static String shown(ScreenKit kit, int w) {
+        StringBuilder b = new StringBuilder();
+        for (int i = 0; kit.shown(w, i) >= 0; i++) {
+            b.append(i > 0 ? " " : "").append(kit.shown(w, i));
+        }
+        return b.toString();
+    }
+
+    private static final long BAR = 0x0101010101L;
+
+    /** a and figures are a bar of one column, A one of two, b the upper line of three, c the last pixel of two columns. */
+    static ScreenKit drawn(int width, int height, String style, String form) {
+        ScreenKit kit = new ScreenKit(Math.max(16, width), Math.max(16, height));
+        for (int c = '0'; c <= '9'; c++) {
+            kit.glyph(c, 1, BAR);
+        }
+        kit.glyph('a', 1, BAR);
+        kit.glyph('A', 2, BAR | BAR << 1);
+        kit.glyph('b', 3, 7);
+        kit.glyph('c', 2, 2L << 32);
+        kit.glyph(' ', 1, 0);
+        kit.glyph('+', 3, 0x02L << 8 | 0x07L << 16 | 0x02L << 24);
+        kit.glyph('-', 3, 0x07L << 16);
+        if (style(kit, style) < 0 || form(kit, form) < 0) {
+            same(style + " " + form, 0, 1);
+        }
+        return kit;
+    }
+
+    static void painted(String style, String form, int width, int height, String... due) {
+        ScreenKit kit = drawn(width, height, style, form);
+        kit.paint();
+        seen(kit, style + " " + form, width, height, due);
+    }
+
+    static void seen(ScreenKit kit, String what, int width, int height, String... due) {
+        StringBuilder b = new StringBuilder();
+        for (String line : due) {
+            b.append(line).append('\n');
+        }
+        same(what, picture(kit, 0, 0, width, height), b.toString());
+    }
 }

@@ -34,7 +34,7 @@ public final class LettersTest {
     }
 
     /** The document's words again, sign by sign: classes, levels, and runs turned from the greatest level down. */
-    private static String plainly(String text, int dir) {
+    static String plainly(String text, int dir) {
         int n = text.length();
         char[] kind = new char[n];
         int[] level = new int[n];

@@ -2,166 +2,131 @@ import java.util.Random;
 
 /** Promises 25 to 27, 42: what is painted of every kind, which pixels are dirty, how much a shape covers. */
 public final class PaintTest {
-    private static final long BAR = 0x0101010101L;
-
-    /** a and figures are a bar of one column, A one of two, b the upper line of three, c the last pixel of two columns. */
-    private static ScreenKit kit(int width, int height, String style, String form) {
-        ScreenKit kit = new ScreenKit(Math.max(16, width), Math.max(16, height));
-        for (int c = '0'; c <= '9'; c++) {
-            kit.glyph(c, 1, BAR);
-        }
-        kit.glyph('a', 1, BAR);
-        kit.glyph('A', 2, BAR | BAR << 1);
-        kit.glyph('b', 3, 7);
-        kit.glyph('c', 2, 2L << 32);
-        kit.glyph(' ', 1, 0);
-        kit.glyph('+', 3, 0x02L << 8 | 0x07L << 16 | 0x02L << 24);
-        kit.glyph('-', 3, 0x07L << 16);
-        if (Check.style(kit, style) < 0 || Check.form(kit, form) < 0) {
-            Check.same(style + " " + form, 0, 1);
-        }
-        return kit;
-    }
-
-    private static void painted(String style, String form, int width, int height, String... due) {
-        ScreenKit kit = kit(width, height, style, form);
-        kit.paint();
-        seen(kit, style + " " + form, width, height, due);
-    }
-
-    private static void seen(ScreenKit kit, String what, int width, int height, String... due) {
-        StringBuilder b = new StringBuilder();
-        for (String line : due) {
-            b.append(line).append('\n');
-        }
-        Check.same(what, Check.picture(kit, 0, 0, width, height), b.toString());
-    }
-
     private static void labels() {
-        painted("", "label\"abc\"", 10, 6,
+        Check.painted("", "label\"abc\"", 10, 6,
             "#.###.....", "#.........", "#.........", "#.........", "#......#..", "..........");
-        painted("*{pad:1;}", "label\"ab\"", 8, 7,
+        Check.painted("*{pad:1;}", "label\"ab\"", 8, 7,
             "........", ".#.###..", ".#......", ".#......", ".#......", ".#......", "........");
-        painted("*{dir:1;}", "label\"ba\"", 16, 2, "..........###.#.", "..............#.");
-        painted("", "label\"A1\"", 16, 2, "#.##............", "#.##............");
-        painted("", "label\"bbbbbb\"", 16, 2, "###.###.###.###.", "................");
-        painted("*{dir:1;}", "label\"abbbb\"", 16, 2, "###.###.###.###.", "................");
-        painted("*{dir:1;}", "label\"bbbbac\"", 16, 5,
+        Check.painted("*{dir:1;}", "label\"ba\"", 16, 2, "..........###.#.", "..............#.");
+        Check.painted("", "label\"A1\"", 16, 2, "#.##............", "#.##............");
+        Check.painted("", "label\"bbbbbb\"", 16, 2, "###.###.###.###.", "................");
+        Check.painted("*{dir:1;}", "label\"abbbb\"", 16, 2, "###.###.###.###.", "................");
+        Check.painted("*{dir:1;}", "label\"bbbbac\"", 16, 5,
             "##.###.###.#....", "...........#....", "...........#....", "...........#....", "...........#..#.");
-        painted("", "label(wrap=1)\"a  bbbb bb\"", 16, 14,
+        Check.painted("", "label(wrap=1)\"a  bbbb bb\"", 16, 14,
             "#...............", "#...............", "#...............", "#...............", "#...............",
             "................", "###.###.###.###.", "................", "................", "................",
             "................", "................", "###.###.........", "................");
-        painted("*{dir:1;pad:1;}", "label(wrap=1)\"b bbb\"", 16, 9,
+        Check.painted("*{dir:1;pad:1;}", "label(wrap=1)\"b bbb\"", 16, 9,
             "................", "...........###..", "................", "................", "................",
             "................", "................", "...###.###.###..", "................");
     }
 
     private static void buttons() {
-        painted("", "button\"b\"", 16, 7,
+        Check.painted("", "button\"b\"", 16, 7,
             "................", "................", "................", "................", "................",
             "......###.......", "................");
-        painted("", "col{button\"bbbbb\"}", 16, 2, "###.###.###.###.", "................");
-        painted("*{pad:7;}", "button\"ab\"", 16, 10,
+        Check.painted("", "col{button\"bbbbb\"}", 16, 2, "###.###.###.###.", "................");
+        Check.painted("*{pad:7;}", "button\"ab\"", 16, 10,
             "................", "................", "................", "................", "................",
             "................", "................", ".......#........", ".......#........", "................");
     }
 
     private static void checks() {
-        painted("", "row{check\"b\"}", 16, 12,
+        Check.painted("", "row{check\"b\"}", 16, 12,
             "................", "................", "................", "................", "................",
             "######.###......", "#....#..........", "#....#..........", "#....#..........", "#....#..........",
             "######..........", "................");
-        ScreenKit kit = kit(16, 16, "", "col{check(bind=1)\"a\" radio(bind=1,pick=3)\"a\"}");
+        ScreenKit kit = Check.drawn(16, 16, "", "col{check(bind=1)\"a\" radio(bind=1,pick=3)\"a\"}");
         kit.put(1, 3);
         kit.paint();
-        seen(kit, "checked", 16, 12,
+        Check.seen(kit, "checked", 16, 12,
             "######.#........", "#....#.#........", "#.##.#.#........", "#.##.#.#........", "#....#.#........",
             "######..........", ".####..#........", "#....#.#........", "#.##.#.#........", "#.##.#.#........",
             "#....#.#........", ".####...........");
         Check.style(kit, "*{dir:1;}");
         kit.put(1, 1);
         kit.paint();
-        seen(kit, "turned", 16, 12,
+        Check.seen(kit, "turned", 16, 12,
             ".......#..######", ".......#..#....#", ".......#..#.##.#", ".......#..#.##.#", ".......#..#....#",
             "..........######", ".......#...####.", ".......#..#....#", ".......#..#....#", ".......#..#....#",
             ".......#..#....#", "...........####.");
-        painted("", "col{check\"b\" radio\"a\" check}", 16, 7,
+        Check.painted("", "col{check\"b\" radio\"a\" check}", 16, 7,
             "######.###......", "#....#..........", "#....#..........", "#....#..........", "#....#..........",
             "######..........", ".####..#........");
-        painted("*{pad:6;}", "check", 16, 11,
+        Check.painted("*{pad:6;}", "check", 16, 11,
             "................", "................", "................", "................", "................",
             "................", "......####......", "......#.........", "......#.........", "......#.........",
             "................");
-        painted("*{pad:6;dir:1;}", "check", 16, 11,
+        Check.painted("*{pad:6;dir:1;}", "check", 16, 11,
             "................", "................", "................", "................", "................",
             "................", "......####......", ".........#......", ".........#......", ".........#......",
             "................");
     }
 
     private static void sliders() {
-        ScreenKit kit = kit(23, 16, "", "col{slider(bind=1,least=10,most=30)}");
+        ScreenKit kit = Check.drawn(23, 16, "", "col{slider(bind=1,least=10,most=30)}");
         String line = "#######################";
         int[][] due = {{10, 0}, {11, 1}, {20, 10}, {30, 20}, {31, 20}, {-5, 0}, {Integer.MAX_VALUE, 20}, {Integer.MIN_VALUE, 0}};
         for (int[] d : due) {
             kit.put(1, d[0]);
             kit.paint();
             String knob = ".".repeat(d[1]) + "###" + ".".repeat(20 - d[1]);
-            seen(kit, "slider at " + d[0], 23, 7, knob, knob, line, knob, knob, knob, ".".repeat(23));
+            Check.seen(kit, "slider at " + d[0], 23, 7, knob, knob, line, knob, knob, knob, ".".repeat(23));
         }
         Check.style(kit, "slider{dir:1;}");
         kit.put(1, 11);
         kit.paint();
         String knob = ".".repeat(19) + "###.";
-        seen(kit, "slider turned", 23, 6, knob, knob, line, knob, knob, knob);
-        painted("", "col{slider(least=5,most=5)}", 16, 3, "###.............", "###.............", "################");
-        painted("", "col{slider(least=5,most=4)}", 16, 3, "###.............", "###.............", "################");
-        painted("slider{pad:7;}", "slider", 16, 10, "................", "................", "................",
+        Check.seen(kit, "slider turned", 23, 6, knob, knob, line, knob, knob, knob);
+        Check.painted("", "col{slider(least=5,most=5)}", 16, 3, "###.............", "###.............", "################");
+        Check.painted("", "col{slider(least=5,most=4)}", 16, 3, "###.............", "###.............", "################");
+        Check.painted("slider{pad:7;}", "slider", 16, 10, "................", "................", "................",
             "................", "................", "................", "................", ".......##.......",
             ".......##.......", "................");
-        painted("slider{pad:7;line:3;}", "slider", 16, 1, "................");
-        kit = kit(16, 16, "slider{ink:80000000;}", "slider");
+        Check.painted("slider{pad:7;line:3;}", "slider", 16, 1, "................");
+        kit = Check.drawn(16, 16, "slider{ink:80000000;}", "slider");
         kit.paint();
         Check.same("the knob over the line", kit.pixel(0, 7) & 255, (127 * 127 + 127) / 255);
         Check.same("the line", kit.pixel(3, 7) & 255, 127);
     }
 
     private static void fields() {
-        ScreenKit kit = kit(16, 16, "field{paper:00ffffff;}", "col{field\"abab\"}");
+        ScreenKit kit = Check.drawn(16, 16, "field{paper:00ffffff;}", "col{field\"abab\"}");
         kit.paint();
-        seen(kit, "a field", 16, 6, "#.###.#.###.....", "#.....#.........", "#.....#.........", "#.....#.........",
+        Check.seen(kit, "a field", 16, 6, "#.###.#.###.....", "#.....#.........", "#.....#.........", "#.....#.........",
             "#.....#.........", "................");
         kit.focus(1);
         kit.paint();
-        seen(kit, "its caret", 16, 7, ".#...#.#...#.###", "......#.....#..#", "......#.....#..#", "......#.....#..#",
+        Check.seen(kit, "its caret", 16, 7, ".#...#.#...#.###", "......#.....#..#", "......#.....#..#", "......#.....#..#",
             "......#.....#..#", "############.###", "................");
         kit.key(1, true);
         kit.paint();
-        seen(kit, "its selection", 16, 6, ".#...#.#.##.####", "......#.####...#", "......#.####...#", "......#.####...#",
+        Check.seen(kit, "its selection", 16, 6, ".#...#.#.##.####", "......#.####...#", "......#.####...#", "......#.####...#",
             "......#.####...#", "########.#######");
         kit.key(3, false);
         kit.key(2, false);
         kit.key(2, true);
         kit.paint();
-        seen(kit, "another one", 16, 1, ".####..#...#####");
+        Check.seen(kit, "another one", 16, 1, ".####..#...#####");
         kit.key(4, false);
         kit.key(1, true);
         kit.able(1, true);
         kit.paint();
-        seen(kit, "a selection without focus", 16, 6, "#.###.#....#....", "#.....#.####....", "#.....#.####....",
+        Check.seen(kit, "a selection without focus", 16, 6, "#.###.#....#....", "#.....#.####....", "#.....#.####....",
             "#.....#.####....", "#.....#.####....", "................");
-        painted("*{dir:1;}", "field\"bbbbbb\"", 16, 6, "................", "................", "................",
+        Check.painted("*{dir:1;}", "field\"bbbbbb\"", 16, 6, "................", "................", "................",
             "................", "................", "###.###.###.....");
-        painted("", "col{field\"A1\"}", 16, 1, "##.#............");
+        Check.painted("", "col{field\"A1\"}", 16, 1, "##.#............");
     }
 
     private static void lists() {
-        ScreenKit kit = kit(16, 16, "list{paper:00ffffff;}", "list(rows=12,bind=1)");
+        ScreenKit kit = Check.drawn(16, 16, "list{paper:00ffffff;}", "list(rows=12,bind=1)");
         kit.put(1, 10);
         kit.point(3, 3);
         kit.wheel(9);
         kit.paint();
-        seen(kit, "a list", 16, 16,
+        Check.seen(kit, "a list", 16, 16,
             "#...............", "#...............", "#...............", "#...............", "#...............",
             "................", ".#.#############", ".#.#############", ".#.#############", ".#.#############",
             ".#.#############", "################", "#.#.............", "#.#.............", "#.#.............",
@@ -171,7 +136,7 @@ public final class PaintTest {
         Check.same("paper's colour", kit.pixel(12, 6), 0xff00ff00);
         Check.same("on ink", kit.pixel(11, 6), 0xff000000);
         Check.same("at the right", kit.pixel(14, 0), 0xff000000);
-        painted("list{pad:5;}", "list(rows=1)", 16, 16,
+        Check.painted("list{pad:5;}", "list(rows=1)", 16, 16,
             "................", "................", "................", "................", "................",
             ".....#..........", ".....#..........", ".....#..........", ".....#..........", ".....#..........",
             "................", "................", "................", "................", "................",
@@ -179,11 +144,11 @@ public final class PaintTest {
     }
 
     private static void trees() {
-        ScreenKit kit = kit(18, 18, "tree{paper:00ffffff;}", "tree(bind=1)\"a(b)a\"");
+        ScreenKit kit = Check.drawn(18, 18, "tree{paper:00ffffff;}", "tree(bind=1)\"a(b)a\"");
         kit.put(1, 2);
         kit.paint();
         String ground = "######.###########";
-        seen(kit, "a tree", 18, 14,
+        Check.seen(kit, "a tree", 18, 14,
             "......#...........", ".#....#...........", "###...#...........", ".#....#...........", "......#...........",
             "..................", ground, ground, ground, ground, ground, "##################", "..................",
             "..................");
@@ -195,24 +160,24 @@ public final class PaintTest {
         kit.put(1, 0);
         kit.able(0, true);
         kit.paint();
-        seen(kit, "opened", 18, 14, ground, ground, "...###.###########", ground, ground, "##################",
+        Check.seen(kit, "opened", 18, 14, ground, ground, "...###.###########", ground, ground, "##################",
             "..........###.....", "..................", "..................", "..................", "..................",
             "..................", "......#...........", "......#...........");
     }
 
     private static void tables() {
-        ScreenKit kit = kit(17, 16, "table{paper:00ffffff;}", "table(bind=1)");
+        ScreenKit kit = Check.drawn(17, 16, "table{paper:00ffffff;}", "table(bind=1)");
         kit.put(1, -1);
         Check.tell(kit, "bbb,a\na,b\nb").data();
         kit.paint();
-        seen(kit, "a table", 17, 14,
+        Check.seen(kit, "a table", 17, 14,
             "###.###.#........", "........#........", "........#........", "........#........", "........#........",
             ".................", "#.......###......", "#................", "#................", "#................",
             "#................", ".................", "###..............", ".................");
         Check.click(kit, 9, 3);
         kit.able(0, true);
         kit.paint();
-        seen(kit, "sorted up", 17, 7,
+        Check.seen(kit, "sorted up", 17, 7,
             "###.###.#........", "........#..#.....", "........#.###....", "........#..#.....", "........#........",
             ".................", "###..............");
         kit.able(0, false);
@@ -220,38 +185,38 @@ public final class PaintTest {
         kit.able(0, true);
         kit.put(1, 1);
         kit.paint();
-        seen(kit, "sorted down", 17, 14,
+        Check.seen(kit, "sorted down", 17, 14,
             "###.###.#........", "........#........", "........#.###....", "........#........", "........#........",
             ".................", "#.......###......", "#................", "#................", "#................",
             "#................", ".................", "...##############", "#################");
         Check.style(kit, "table{dir:1;}");
         kit.put(1, 2);
         kit.paint();
-        seen(kit, "turned", 17, 8,
+        Check.seen(kit, "turned", 17, 8,
             "#........###.###.", "#................", "#.###............", "#................", "#................",
             ".................", "###......#.......", ".........#.......");
-        kit = kit(16, 16, "", "table");
+        kit = Check.drawn(16, 16, "", "table");
         kit.paint();
-        seen(kit, "no data", 16, 2, "................", "................");
+        Check.seen(kit, "no data", 16, 2, "................", "................");
     }
 
     private static void tabs() {
-        ScreenKit kit = kit(20, 16, "", "tabs(bind=1){gap\"a\" gap\"b\"}");
+        ScreenKit kit = Check.drawn(20, 16, "", "tabs(bind=1){gap\"a\" gap\"b\"}");
         kit.paint();
-        seen(kit, "tabs", 20, 9,
+        Check.seen(kit, "tabs", 20, 9,
             "....................", "..#.....###.........", "..#.................", "..#.................",
             "..#.................", "..#.................", "....................", "######..............",
             "....................");
         kit.put(1, 1);
         kit.paint();
-        seen(kit, "the other", 20, 9,
+        Check.seen(kit, "the other", 20, 9,
             "....................", "..#.....###.........", "..#.................", "..#.................",
             "..#.................", "..#.................", "....................", "......########......",
             "....................");
         Check.style(kit, "tabs{dir:1;}");
         kit.put(1, 2);
         kit.paint();
-        seen(kit, "none, turned", 20, 8,
+        Check.seen(kit, "none, turned", 20, 8,
             "....................", "........###.....#...", "................#...", "................#...",
             "................#...", "................#...", "....................", "....................");
     }
@@ -266,7 +231,7 @@ public final class PaintTest {
     }
 
     private static void boxes() {
-        ScreenKit kit = kit(16, 16, "row{paper:80ff0000;line:2;edge:400000ff;pad:1;}gap{paper:ff00ff00;wide:96;}", "row{gap}");
+        ScreenKit kit = Check.drawn(16, 16, "row{paper:80ff0000;line:2;edge:400000ff;pad:1;}gap{paper:ff00ff00;wide:96;}", "row{gap}");
         kit.paint();
         int paper = over(-1, 0x80ff0000);
         Check.same("paper", paper, 0xffff7f7f);
@@ -295,7 +260,7 @@ public final class PaintTest {
     }
 
     private static void shapes() {
-        ScreenKit kit = kit(16, 16, "gap{shape:2;ink:80ff0000;paper:ffffffff;line:1;edge:ff0000ff;}", "gap");
+        ScreenKit kit = Check.drawn(16, 16, "gap{shape:2;ink:80ff0000;paper:ffffffff;line:1;edge:ff0000ff;}", "gap");
         kit.paint();
         Check.same("a shape without points", kit.pixel(5, 5), -1);
         Check.tell(kit, "m0 0l128 0l128 256l0 256z").shape(2);
@@ -406,7 +371,7 @@ public final class PaintTest {
     }
 
     private static void dirty() {
-        ScreenKit kit = kit(20, 40, "", "col{label\"a\" check(bind=1) slider(bind=2,most=9) list(rows=2,bind=3) gap.g}");
+        ScreenKit kit = Check.drawn(20, 40, "", "col{label\"a\" check(bind=1) slider(bind=2,most=9) list(rows=2,bind=3) gap.g}");
         Check.same("all", kit.paint(), 800);
         Check.same("nothing", kit.paint(), 0);
         Check.tell(kit, "b").text(1);
@@ -464,7 +429,7 @@ public final class PaintTest {
     }
 
     private static void dirtyLooks() {
-        ScreenKit kit = kit(20, 64, "*{tall:6;}.s{shape:1;}.t{shape:2;}",
+        ScreenKit kit = Check.drawn(20, 64, "*{tall:6;}.s{shape:1;}.t{shape:2;}",
             "col{gap.s gap.t tree\"a(b)\" table field\"a\" label\"@one\" tabs{gap\"@one\" field}}");
         Check.same("places", Check.place(kit, 7), "0 42 20 14");
         Check.tell(kit, "a\nb\n").data();
@@ -510,7 +475,7 @@ public final class PaintTest {
     }
 
     private static void dirtySorts() {
-        ScreenKit kit = kit(20, 40, "", "col{table tree\"a(b)\" tabs{gap\"a\" gap\"b\"}}");
+        ScreenKit kit = Check.drawn(20, 40, "", "col{table tree\"a(b)\" tabs{gap\"a\" gap\"b\"}}");
         Check.tell(kit, "h\n1\n1").data();
         kit.able(0, true);
         kit.paint();
@@ -564,42 +529,42 @@ public final class PaintTest {
 
     /** What a box's content cuts, on each side. */
     private static void cuts() {
-        ScreenKit kit = kit(16, 16, "stack{pad:4;align:1;}.g{wide:16;tall:16;paper:ff000000;}scroll{pad:1;}.h{wide:16;tall:30;"
+        ScreenKit kit = Check.drawn(16, 16, "stack{pad:4;align:1;}.g{wide:16;tall:16;paper:ff000000;}scroll{pad:1;}.h{wide:16;tall:30;"
             + "paper:ff000000;}", "stack{gap.g}");
         kit.paint();
         String out = "................";
         String in = "....########....";
-        seen(kit, "cut", 16, 16, out, out, out, out, in, in, in, in, in, in, in, in, out, out, out, out);
+        Check.seen(kit, "cut", 16, 16, out, out, out, out, in, in, in, in, in, in, in, in, out, out, out, out);
         Check.style(kit, "stack{pad:4;align:2;dir:1;}.g{wide:16;tall:16;paper:ff000000;}");
         kit.paint();
-        seen(kit, "cut", 16, 16, out, out, out, out, in, in, in, in, in, in, in, in, out, out, out, out);
+        Check.seen(kit, "cut", 16, 16, out, out, out, out, in, in, in, in, in, in, in, in, out, out, out, out);
         Check.form(kit, "scroll{stack{gap.g}}");
         Check.style(kit, "scroll{pad:2;}stack{pad:1;}.g{tall:30;paper:ff000000;}");
         kit.point(8, 8);
         kit.wheel(1);
         kit.paint();
         in = "...##########...";
-        seen(kit, "scrolled", 16, 16, out, out, in, in, in, in, in, in, in, in, in, in, in, in, out, out);
+        Check.seen(kit, "scrolled", 16, 16, out, out, in, in, in, in, in, in, in, in, in, in, in, in, out, out);
         kit.wheel(10);
         kit.paint();
-        seen(kit, "to the end", 16, 16, out, out, in, in, in, in, in, in, in, in, in, in, in, out, out, out);
+        Check.seen(kit, "to the end", 16, 16, out, out, in, in, in, in, in, in, in, in, in, in, in, out, out, out);
     }
 
     /** A shape, an edge, FOCUS and a picture of a widget that stands somewhere. */
     private static void somewhere() {
-        ScreenKit kit = kit(24, 16, "row{pad:3;gap:5;align:0;}gap{wide:8;tall:4;line:1;edge:ff00ff00;shape:1;}tabs{wide:4;tall:5;}",
+        ScreenKit kit = Check.drawn(24, 16, "row{pad:3;gap:5;align:0;}gap{wide:8;tall:4;line:1;edge:ff00ff00;shape:1;}tabs{wide:4;tall:5;}",
             "row{gap tabs}");
         Check.tell(kit, "m0 0l256 0l256 128l128 128l128 256l0 256z").shape(1);
         kit.focus(2);
         kit.paint();
         String out = "....................";
-        seen(kit, "somewhere", 20, 16, out, out, out, "...oooooooo.....####", "...o######o.....#..#", "...o###...o.....#..#",
+        Check.seen(kit, "somewhere", 20, 16, out, out, out, "...oooooooo.....####", "...o######o.....#..#", "...o###...o.....#..#",
             "...oooooooo.....#..#", out.substring(0, 16) + "#..#", out.substring(0, 16) + "#..#",
             out.substring(0, 16) + "#..#", out.substring(0, 16) + "####", out, out, out, out, out);
     }
 
     private static void dirtyDialogs() {
-        ScreenKit kit = kit(40, 30, "#a{wide:8;tall:8;paper:ffff0000;}#b{wide:10;tall:6;paper:ff0000ff;}",
+        ScreenKit kit = Check.drawn(40, 30, "#a{wide:8;tall:8;paper:ffff0000;}#b{wide:10;tall:6;paper:ff0000ff;}",
             "stack{dialog(bind=0){gap#a} dialog(bind=1){gap#b}}");
         kit.put(0, 1);
         kit.put(1, 1);

@@ -71,19 +71,11 @@ public final class RowsTest {
         Check.same("no row in the frame", kit.widget(0, 15), 8);
     }
 
-    private static String shown(ScreenKit kit, int w) {
-        StringBuilder b = new StringBuilder();
-        for (int i = 0; kit.shown(w, i) >= 0; i++) {
-            b.append(i > 0 ? " " : "").append(kit.shown(w, i));
-        }
-        return b.toString();
-    }
-
     private static void trees() {
         ScreenKit kit = new ScreenKit(40, 20);
         Check.form(kit, "tree(bind=1)\"ab(cd(e)f)g\"");
         // nodes a0 b1 c2 d3 e4 f5 g6
-        Check.same("closed", shown(kit, 0), "0 1 6");
+        Check.same("closed", Check.shown(kit, 0), "0 1 6");
         Check.same("no row", kit.shown(0, 3) + kit.shown(0, -1) + kit.shown(1, 0), -3);
         kit.focus(0);
         kit.put(1, 4);
@@ -98,24 +90,24 @@ public final class RowsTest {
         kit.key(1, false);
         Check.same("closed, without a node around", kit.cell(1), 1);
         kit.key(2, false);
-        Check.same("opened", shown(kit, 0), "0 1 2 3 5 6");
+        Check.same("opened", Check.shown(kit, 0), "0 1 2 3 5 6");
         kit.key(2, false);
-        Check.same("opened already", shown(kit, 0), "0 1 2 3 5 6");
+        Check.same("opened already", Check.shown(kit, 0), "0 1 2 3 5 6");
         kit.key(10, false);
         kit.key(2, false);
-        Check.same("a leaf", shown(kit, 0) + "/" + kit.cell(1), "0 1 2 3 5 6/2");
+        Check.same("a leaf", Check.shown(kit, 0) + "/" + kit.cell(1), "0 1 2 3 5 6/2");
         kit.key(10, false);
         kit.key(2, false);
-        Check.same("opened in it", shown(kit, 0) + "/" + kit.widget(0, 14), "0 1 2 3 4 5 6/1");
+        Check.same("opened in it", Check.shown(kit, 0) + "/" + kit.widget(0, 14), "0 1 2 3 4 5 6/1");
         kit.key(4, false);
         Check.same("the last", kit.cell(1) + "/" + kit.widget(0, 14), "6/4");
         kit.key(9, false);
         kit.key(1, false);
         Check.same("the node around", kit.cell(1) + "/" + kit.widget(0, 14), "1/1");
         kit.key(1, false);
-        Check.same("closed again", shown(kit, 0) + "/" + kit.widget(0, 14), "0 1 6/1");
+        Check.same("closed again", Check.shown(kit, 0) + "/" + kit.widget(0, 14), "0 1 6/1");
         kit.key(2, false);
-        Check.same("what is in it stays opened", shown(kit, 0), "0 1 2 3 4 5 6");
+        Check.same("what is in it stays opened", Check.shown(kit, 0), "0 1 2 3 4 5 6");
         kit.key(3, false);
         Check.same("the first", kit.cell(1) + "/" + kit.widget(0, 14), "0/0");
         kit.point(5, 5);
@@ -131,16 +123,16 @@ public final class RowsTest {
         // rows: b1 at 0, c2 at 6, d3 at 12
         kit.point(4, 13);
         kit.down();
-        Check.same("within 6 columns behind its indent", shown(kit, 0) + "/" + kit.cell(1), "0 1 2 3 5 6/4");
+        Check.same("within 6 columns behind its indent", Check.shown(kit, 0) + "/" + kit.cell(1), "0 1 2 3 5 6/4");
         kit.up();
         kit.point(9, 13);
         kit.down();
-        Check.same("to the last of them", shown(kit, 0), "0 1 2 3 4 5 6");
+        Check.same("to the last of them", Check.shown(kit, 0), "0 1 2 3 4 5 6");
         kit.up();
         Check.click(kit, 10, 13);
         Check.same("behind them", kit.cell(1), 3);
         Check.click(kit, 3, 13);
-        Check.same("ahead of them", shown(kit, 0) + "/" + kit.cell(1), "0 1 2 3 4 5 6/3");
+        Check.same("ahead of them", Check.shown(kit, 0) + "/" + kit.cell(1), "0 1 2 3 4 5 6/3");
         Check.click(kit, 4, 7);
         Check.same("of a leaf", kit.cell(1), 2);
         kit.wheel(100);
@@ -149,7 +141,7 @@ public final class RowsTest {
         Check.same("leaf e again", kit.cell(1), 4);
         kit.wheel(-3);
         Check.click(kit, 0, 1);
-        Check.same("all in it closed", shown(kit, 0) + "/" + kit.widget(0, 14), "0 1 6/1");
+        Check.same("all in it closed", Check.shown(kit, 0) + "/" + kit.widget(0, 14), "0 1 6/1");
     }
 
     private static void treeTexts() {
@@ -167,11 +159,11 @@ public final class RowsTest {
         }
         ScreenKit kit = new ScreenKit(40, 40);
         Check.form(kit, "tree\"a(b)(c)d((e)f)g)h\"");
-        Check.same("closed", shown(kit, 0), "0 3 5 6 7");
+        Check.same("closed", Check.shown(kit, 0), "0 3 5 6 7");
         kit.focus(0);
         kit.key(3, false);
         kit.key(2, false);
-        Check.same("two rows of children", shown(kit, 0), "0 1 2 3 5 6 7");
+        Check.same("two rows of children", Check.shown(kit, 0), "0 1 2 3 5 6 7");
         Check.form(kit, "tree\"ab(c)\"");
         kit.focus(0);
         kit.key(4, false);
@@ -179,14 +171,14 @@ public final class RowsTest {
         kit.key(10, false);
         kit.key(1, false);
         kit.key(1, false);
-        Check.same("the top is held", shown(kit, 0) + "/" + kit.widget(0, 15), "0 1/1");
+        Check.same("the top is held", Check.shown(kit, 0) + "/" + kit.widget(0, 15), "0 1/1");
         Check.form(kit, "tree\"a(b)Z(9)\"");
         kit.focus(0);
         kit.key(10, false);
         kit.key(2, false);
         kit.key(10, false);
         kit.key(1, false);
-        Check.same("node 0 around", shown(kit, 0) + "/" + kit.widget(0, 15), "0 1 2/0");
+        Check.same("node 0 around", Check.shown(kit, 0) + "/" + kit.widget(0, 15), "0 1 2/0");
     }
 
     private static ScreenKit table(String data, int height) {
@@ -198,20 +190,20 @@ public final class RowsTest {
 
     private static void tables() {
         ScreenKit kit = table("name,n\nb,10\na,9\nc,9\nB,x,q\n10\n,010\n", 40);
-        Check.same("as they are told", shown(kit, 0), "0 1 2 3 4 5");
+        Check.same("as they are told", Check.shown(kit, 0), "0 1 2 3 4 5");
         Check.same("least", Check.least(kit, 0), "40 30");
         Check.click(kit, 5, 3);
-        Check.same("up by names", shown(kit, 0), "4 5 3 1 0 2");
+        Check.same("up by names", Check.shown(kit, 0), "4 5 3 1 0 2");
         Check.click(kit, 19, 3);
-        Check.same("down", shown(kit, 0), "2 0 1 3 5 4");
+        Check.same("down", Check.shown(kit, 0), "2 0 1 3 5 4");
         Check.click(kit, 5, 0);
-        Check.same("not at all", shown(kit, 0), "0 1 2 3 4 5");
+        Check.same("not at all", Check.shown(kit, 0), "0 1 2 3 4 5");
         Check.click(kit, 20, 5);
-        Check.same("up by numbers", shown(kit, 0), "1 2 0 5 4 3");
+        Check.same("up by numbers", Check.shown(kit, 0), "1 2 0 5 4 3");
         Check.click(kit, 39, 5);
-        Check.same("down by numbers, equal ones in their order", shown(kit, 0), "3 4 0 5 1 2");
+        Check.same("down by numbers, equal ones in their order", Check.shown(kit, 0), "3 4 0 5 1 2");
         Check.click(kit, 3, 5);
-        Check.same("another column", shown(kit, 0), "4 5 3 1 0 2");
+        Check.same("another column", Check.shown(kit, 0), "4 5 3 1 0 2");
         Check.click(kit, 3, 6);
         Check.same("a row", kit.cell(1), 4);
         Check.click(kit, 3, 17);
@@ -222,7 +214,7 @@ public final class RowsTest {
         kit.key(4, false);
         Check.same("the last", kit.cell(1) + "/" + kit.widget(0, 14), "2/1");
         Check.same("a filter", Check.tell(kit, "9").filter(0), 2);
-        Check.same("those with it", shown(kit, 0), "1 2");
+        Check.same("those with it", Check.shown(kit, 0), "1 2");
         Check.same("the top is held", kit.widget(0, 14), 1);
         kit.key(3, false);
         Check.same("the first", kit.cell(1) + "/" + kit.widget(0, 14), "1/0");
@@ -232,12 +224,12 @@ public final class RowsTest {
         Check.same("as none", kit.cell(1), 3);
         Check.same("one behind the other", Check.tell(kit, "01").filter(0), 1);
         Check.same("not by bits", Check.tell(kit, "00").filter(0), 0);
-        Check.same("without rows", shown(kit, 0) + kit.widget(0, 14), "0");
+        Check.same("without rows", Check.shown(kit, 0) + kit.widget(0, 14), "0");
         kit.key(10, false);
         Check.same("no key", kit.cell(1), 3);
         Check.same("the first 8 signs", Check.tell(kit, "123456789").filter(0), 0);
         Check.same("empty", kit.filter(0), 6);
-        Check.same("sorted yet", shown(kit, 0), "4 5 3 1 0 2");
+        Check.same("sorted yet", Check.shown(kit, 0), "4 5 3 1 0 2");
         Check.same("no table", kit.filter(1) + kit.filter(-1), -4);
         kit.put(1, 6);
         Check.same("no such row", kit.widget(0, 15), -1);
@@ -248,15 +240,15 @@ public final class RowsTest {
     private static void tableData() {
         ScreenKit kit = table("a,b\nx,2\ny,1\n", 40);
         Check.click(kit, 30, 2);
-        Check.same("sorted", shown(kit, 0), "1 0");
+        Check.same("sorted", Check.shown(kit, 0), "1 0");
         Check.tell(kit, "a\nx,2\ny,1").data();
-        Check.same("by a column that isn't there", shown(kit, 0), "0 1");
+        Check.same("by a column that isn't there", Check.shown(kit, 0), "0 1");
         Check.tell(kit, "a,b\nx,12345678\ny,1234567\nz,9\nw,").data();
-        Check.same("there again, and eight digits are signs", shown(kit, 0), "2 1 3 0");
+        Check.same("there again, and eight digits are signs", Check.shown(kit, 0), "2 1 3 0");
         Check.tell(kit, "a\n12345678x,").data();
-        Check.same("a fault", shown(kit, 0), "2 1 3 0");
+        Check.same("a fault", Check.shown(kit, 0), "2 1 3 0");
         kit.data();
-        Check.same("no lines", shown(kit, 0) + kit.count(11), "0");
+        Check.same("no lines", Check.shown(kit, 0) + kit.count(11), "0");
         Check.same("least", Check.least(kit, 0), "40 6");
         Check.click(kit, 3, 3);
         Check.click(kit, 3, 9);
@@ -282,16 +274,16 @@ public final class RowsTest {
         // columns of 10, 10, 12 from 4 on
         Check.click(kit, 14, 5);
         Check.click(kit, 14, 5);
-        Check.same("sorted by equal parts", shown(kit, 2), "0 1 2 3 4 5");
+        Check.same("sorted by equal parts", Check.shown(kit, 2), "0 1 2 3 4 5");
         Check.click(kit, 13, 5);
         Check.click(kit, 13, 5);
-        Check.same("down by the first column", shown(kit, 2), "5 4 3 2 1 0");
-        Check.same("each has its own", shown(kit, 1), "0 1 2 3 4 5");
+        Check.same("down by the first column", Check.shown(kit, 2), "5 4 3 2 1 0");
+        Check.same("each has its own", Check.shown(kit, 1), "0 1 2 3 4 5");
         Check.click(kit, 3, 5);
-        Check.same("not in the frame", shown(kit, 2), "5 4 3 2 1 0");
+        Check.same("not in the frame", Check.shown(kit, 2), "5 4 3 2 1 0");
         Check.style(kit, "table{pad:4;dir:1;}");
         Check.click(kit, 26, 5);
-        Check.same("turned: the first column is at the right", shown(kit, 2), "0 1 2 3 4 5");
+        Check.same("turned: the first column is at the right", Check.shown(kit, 2), "0 1 2 3 4 5");
         Check.click(kit, 11, 13);
         Check.same("bound to none", kit.widget(2, 15), 0);
     }
@@ -311,7 +303,7 @@ public final class RowsTest {
         Check.same("to the only one", kit.widget(1, 14) * 10 + kit.shown(1, 0), 5);
         kit.filter(1);
         Check.click(kit, 3, 3);
-        Check.same("by values, then by signs", shown(kit, 1), "0 1 2 3 6 7 4 5");
+        Check.same("by values, then by signs", Check.shown(kit, 1), "0 1 2 3 6 7 4 5");
         kit.wheel(100);
         kit.data();
         Check.same("without rows", kit.widget(1, 14), 0);
@@ -320,13 +312,13 @@ public final class RowsTest {
         kit.down();
         kit.up();
         kit.wheel(2);
-        Check.same("opened", shown(kit, 2) + "/" + kit.widget(2, 14), "0 1 2 3 4 5/2");
+        Check.same("opened", Check.shown(kit, 2) + "/" + kit.widget(2, 14), "0 1 2 3 4 5/2");
         kit.put(1, 1);
         kit.focus(2);
         kit.key(3, false);
         kit.wheel(3);
         kit.key(1, false);
-        Check.same("the selected one is seen", shown(kit, 2) + "/" + kit.widget(2, 14), "0/0");
+        Check.same("the selected one is seen", Check.shown(kit, 2) + "/" + kit.widget(2, 14), "0/0");
     }
 
     /** Beside the content there is no row. */
