@@ -229,6 +229,8 @@ public final class EdgeDesignTest {
             Check.same("first, middle, last of three", kit.remove(n == 1 ? 2 : 1), 2);
             Check.tell(kit, "gap").insert(0, 1);
         }
+        kit = Check.made(20, 20, "col{" + "gap ".repeat(59) + "}", "");
+        Check.same("of sixty", kit.remove(59) * 100 + kit.remove(1), 5958);
         kit = Check.made(20, 20, "col{gap.a gap.b}", "gap{grow:1;}");
         kit.paint();
         kit.remove(1);

@@ -331,6 +331,27 @@ public final class EdgePaintTest {
         kit.paint();
         Check.same("the greatest image, from its first line on", kit.pixel(58 + 5, 9), 0xff010203);
         Check.same("nothing is dirty then", kit.paint(), 0);
+        kit = Check.made(96, 16, "picture", "");
+        kit.image(1, 3, 3);
+        for (int i = 0; i < 9; i++) {
+            kit.dot(1, i % 3, i / 3, INK);
+        }
+        kit.paint();
+        for (int i = 0; i < 96 * 16; i++) {
+            boolean there = i % 96 >= 46 && i % 96 < 49 && i / 96 >= 6 && i / 96 < 9;
+            Check.same("pixel " + i % 96 + ", " + i / 96, kit.pixel(i % 96, i / 96), there ? INK : -1);
+        }
+        kit = Check.made(20, 16, "row{gap scroll{picture}}", "row{align:0;}gap{wide:10;}scroll{wide:6;tall:5;dir:1;}");
+        kit.image(1, 32, 20);
+        for (int i = 0; i < 640; i++) {
+            kit.dot(1, i % 32, i / 32, INK);
+        }
+        Check.same("cut at the left", Check.place(kit, 3), "-10 0 32 20");
+        kit.paint();
+        for (int i = 0; i < 20 * 16; i++) {
+            boolean there = i % 20 >= 10 && i / 20 < 12;
+            Check.same("visible pixel " + i % 20 + ", " + i / 20, kit.pixel(i % 20, i / 20), there ? INK : -1);
+        }
     }
 
     private static void shapeIs(String text, int due) {
@@ -340,6 +361,7 @@ public final class EdgePaintTest {
     /** shape(): rings of m, l, q, z; at most 64 points; three at least in a ring; numbers 0 .. 256. */
     private static void reading() {
         shapeIs("", 0);
+        shapeIs(" \n", 0);
         shapeIs("m0 0l256 256l0 0z", 3);
         shapeIs("m0 0z", -1 - 4);
         shapeIs("m0 0l1 1z", -1 - 8);
@@ -662,7 +684,8 @@ public final class EdgePaintTest {
         ScreenKit kit = small("table.x(bind=1)", ".x{wide:40;tall:36;}");
         kit.put(1, 9);
         int n = 40 * 36;
-        String[] all = {"ab,c\nd", "ab,c\ne", "a,bc\ne", "a,bc\n,e", "a,bc\n,e,", "a,bc,\n,e", "a\nbc\n\n,e", "abc,e", "abce", "", "x"};
+        String[] all = {"ab,c\nd", "ab,c\ne", "a,bc\ne", "a,bc\n,e", "a,bc\n,e,", "a,bc,\n,e", "a\nbc\n\n,e", "abc,e", "abce", "", ",", ",,", "", "x", "y",
+            "y\n,", "y", "ab\nc", "a\nbc", "a\nbd"};
         kit.paint();
         for (String data : all) {
             Check.tell(kit, data).data();
@@ -763,9 +786,13 @@ public final class EdgePaintTest {
 
     /** The screen is as if all were painted; a pixel is as it was painted latest. */
     private static void parts() {
-        ScreenKit kit = Check.made(20, 20, "stack{gap.a tabs gap.b}", "*{paper:40ff0000;}stack{line:2;edge:8000ff00;align:0;ink:80000000;}"
+        ScreenKit kit = Check.made(20, 20, "stack{gap.a tabs gap.b picture}", "*{paper:40ff0000;}stack{line:2;edge:8000ff00;align:0;ink:80000000;}"
             + ".a{wide:12;tall:12;paper:400000ff;line:1;edge:40000000;shape:1;}tabs{wide:10;tall:16;}.b{wide:7;tall:7;paper:80ffff00;}");
         Check.tell(kit, "m0 0l256 20l100 256z").shape(1);
+        kit.image(1, 12, 18);
+        for (int i = 0; i < 216; i++) {
+            kit.dot(1, i % 12, i / 12, 0x40102030 + i);
+        }
         kit.focus(2);
         kit.paint();
         String was = Check.picture(kit, 0, 0, 20, 20);

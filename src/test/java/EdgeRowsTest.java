@@ -261,6 +261,10 @@ public final class EdgeRowsTest {
         Check.same("its child", Check.shown(kit, 1) + "/" + kit.cell(1), "0 1 2/2");
         press(kit, 2, 7);
         Check.same("closed; selected, shown or not", Check.shown(kit, 1) + "/" + kit.widget(1, 15), "0 1/2");
+        kit = made(36, "tree(bind=1)\"(a)b\"");
+        kit.put(1, -1);
+        press(kit, 5, 3);
+        Check.same("behind a ( that is nothing", Check.shown(kit, 1) + "/" + kit.cell(1), "0 1/0");
         kit = made(36, "tree\"ab(c)\"");
         Check.same("none selected", kit.widget(1, 15), -1);
         press(kit, 7, 7);
@@ -487,6 +491,8 @@ public final class EdgeRowsTest {
         sorted("1\n0\n01\n00", "1 3 0 2", "0 2 1 3");
         sorted("a\n0", "1 0", "0 1");
         sorted("0\na", "0 1", "1 0");
+        sorted("!\n0", "1 0", "0 1");
+        sorted("0\n!", "0 1", "1 0");
         sorted(" \n9999999", "1 0", "0 1");
         sorted("9999999\n1000000\n9999998", "1 2 0", "0 2 1");
         sorted("09999999\n2", "1 0", "0 1");

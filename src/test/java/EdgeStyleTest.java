@@ -21,6 +21,7 @@ public final class EdgeStyleTest {
     /** RULES, any number; selectors with commas between, { , declarations, perhaps none, } . */
     private static void rules() {
         good("", 0);
+        good(" \n", 0);
         good("row{}", 1);
         good("row{}row{}", 2);
         good("row,row{}", 2);

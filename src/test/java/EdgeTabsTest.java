@@ -306,6 +306,13 @@ public final class EdgeTabsTest {
         kit.put(2, 0);
         kit.put(2, 1);
         Check.same("away and there again", kit.paint(), 0);
+        kit.put(1, 1);
+        Check.style(kit, ".a,.b,.c{wide:8;tall:8;paper:80ff0000;}");
+        kit.paint();
+        Check.same("each once", kit.pixel(20, 15), 0xff000000 | 255 << 16 | 63 << 8 | 63);
+        kit.put(1, 0);
+        Check.style(kit, ".a{wide:8;tall:8;paper:ffff0000;}.b{wide:10;tall:6;paper:ff0000ff;}");
+        kit.paint();
         kit.remove(4);
         Check.tell(kit, "dialog(bind=2){gap.b}").insert(0, 2);
         Check.same("another one in its place", kit.paint(), 60);
@@ -314,7 +321,7 @@ public final class EdgeTabsTest {
     /** One that shows again within a call isn't the newest yet: it is painted ahead of the other dialogs. */
     private static void again() {
         ScreenKit kit = Check.made(40, 30, "col{tabs{row{dialog(bind=1){gap.a}}} dialog(bind=2){gap.b}}",
-            "tabs{grow:1;}.a{wide:8;tall:8;paper:ffff0000;}.b{wide:8;tall:8;paper:ff0000ff;}tabs:focus{hide:1;}");
+            "tabs{grow:1;}.a{wide:12;tall:12;paper:ffff0000;}.b{wide:8;tall:8;paper:ff0000ff;}tabs:focus{hide:1;}");
         kit.point(20, 3);
         kit.put(2, 1);
         kit.put(1, 1);
@@ -324,12 +331,35 @@ public final class EdgeTabsTest {
         Check.same("so they have none", kit.count(6) + kit.count(5), -2);
         Check.same("the dialog in it is open", kit.widget(3, 10), 0);
         Check.same("the other is the top one", kit.count(13), 5);
-        Check.same("both are dirty", kit.paint(), 64);
+        Check.same("both are dirty", kit.paint(), 144);
         Check.same("the other is painted last", kit.pixel(20, 15), 0xff0000ff);
+        Check.same("it is painted ahead of it", kit.pixel(14, 9), 0xffff0000);
         Check.same("the next call that changes something", kit.tick(1), 0);
         Check.same("makes it the newest", kit.count(13), 3);
-        Check.same("both are dirty again", kit.paint(), 64);
+        Check.same("both are dirty again", kit.paint(), 144);
         Check.same("it is painted last", kit.pixel(20, 15), 0xffff0000);
+    }
+
+    /** One that is hidden again within a call, as what opened it is lost, isn't the top one. */
+    private static void lostAgain() {
+        ScreenKit kit = Check.made(40, 30, "col{tabs{row{dialog(bind=1){gap.a}}} dialog(bind=2){gap.b}}",
+            "tabs{grow:1;}.a{wide:12;tall:12;paper:ffff0000;}.b{wide:8;tall:8;paper:ff0000ff;}row dialog{hide:1;}"
+            + "tabs:focus row dialog{hide:0;}");
+        kit.put(1, 1);
+        kit.paint();
+        Check.same("FOCUS shows the dialog", kit.focus(1), 1);
+        Check.same("which takes it", kit.count(5), -1);
+        Check.same("so it is hidden again", kit.widget(3, 10) * 10 + kit.count(13), 9);
+        Check.same("nothing is seen of it", kit.paint(), 0);
+        Check.same("key 15 closes none", kit.key(15, false) + kit.cell(1), 0);
+        Check.same("others are found", kit.point(20, 3), 1);
+        kit.put(2, 1);
+        kit.put(1, 2);
+        Check.same("one that is open", kit.count(13), 5);
+        Check.same("the tabs are hovered yet", kit.down(), 1);
+        Check.same("it is the top one again", kit.count(13) * 10 + kit.count(5), 49);
+        kit.paint();
+        Check.same("it is painted", kit.pixel(20, 15), 0xff0000ff);
     }
 
     public static void main(String[] args) {
@@ -343,6 +373,7 @@ public final class EdgeTabsTest {
         top();
         painting();
         again();
+        lostAgain();
         Check.end("EdgeTabsTest");
     }
 }
