@@ -1,3 +1,8 @@
+import java.util.ArrayList;
+import java.util.HashMap;
+import java.util.List;
+import java.util.Map;
+
 /** What the tests share: telling texts, asking for texts and pictures, and counting what isn't as it is due. */
 final class Check {
     static int wrong;
@@ -252,5 +257,43 @@ final class Check {
             b.append(line).append('\n');
         }
         same(what, picture(kit, 0, 0, width, height), b.toString());
+    }
+
+    /** What is written of each widget: "cols" and the like with their numbers, "#name" and ".class" with 1. */
+    static List<Map<String, Integer>> attributes(ScreenKit kit) {
+        List<Map<String, Integer>> all = new ArrayList<>();
+        String written = written(kit);
+        for (int i = 0; i < written.length();) {
+            char c = written.charAt(i);
+            if (c == '"') {
+                i = written.indexOf('"', i + 1) + 1;
+            } else if (c == '(') {
+                int end = written.indexOf(')', i);
+                for (String told : written.substring(i + 1, end).split(",")) {
+                    String[] parts = told.split("=");
+                    if (!parts[0].equals("do")) {
+                        all.get(all.size() - 1).put(parts[0], Integer.parseInt(parts[1]));
+                    }
+                }
+                i = end + 1;
+            } else if (Character.isLetterOrDigit(c)) {
+                int from = i;
+                boolean kind = i == 0 || "{ ".indexOf(written.charAt(i - 1)) >= 0;
+                while (i < written.length() && Character.isLetterOrDigit(written.charAt(i))) {
+                    i++;
+                }
+                if (kind) {
+                    all.add(new HashMap<>());
+                } else {
+                    all.get(all.size() - 1).put(written.substring(from - 1, i), 1);
+                }
+            } else {
+                if (c == '}' && i + 1 < written.length() && Character.isLetterOrDigit(written.charAt(i + 1))) {
+                    same("a blank behind } in " + written, 0, 1);
+                }
+                i++;
+            }
+        }
+        return all;
     }
 }

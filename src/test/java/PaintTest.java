@@ -347,7 +347,7 @@ public final class PaintTest {
         }
     }
 
-    private static int covered(int[] lines, int n, int w, int h, int x, int y) {
+    static int covered(int[] lines, int n, int w, int h, int x, int y) {
         int inside = 0;
         for (int p = 0; p < 16; p++) {
             long px = 32L * (8 * x + 2 * (p % 4) + 1);

@@ -10,22 +10,22 @@ public final class RandomRunsTest {
         "align", "hide", "dir", "shape"};
     private static final int[] MOST = {0, 0, 0, 3, 9, 9, 96, 64, 9, 3, 1, 1, 8};
     private final Random random;
-    private int widgets;
-    private int names;
+    int widgets;
+    int names;
 
-    private RandomRunsTest(long seed) {
+    RandomRunsTest(long seed) {
         random = new Random(seed);
     }
 
-    private int up(int n) {
+    int up(int n) {
         return random.nextInt(n);
     }
 
-    private boolean once(int n) {
+    boolean once(int n) {
         return up(n) == 0;
     }
 
-    private String text(int most) {
+    String text(int most) {
         StringBuilder b = new StringBuilder();
         int n = up(most + 1);
         String signs = "abcxyzABCXYZ0129 .,-()@  ";
@@ -39,7 +39,7 @@ public final class RandomRunsTest {
         return kind <= 5 || kind == 14 || kind == 15;
     }
 
-    private String widget(int depth) {
+    String widget(int depth) {
         int kind = depth == 0 && !once(6) ? new int[] {0, 1, 1, 1, 2, 3, 4, 5, 14}[up(9)] : up(19);
         StringBuilder b = new StringBuilder(KINDS[kind]);
         widgets++;
@@ -89,7 +89,7 @@ public final class RandomRunsTest {
         return b.toString();
     }
 
-    private String rules() {
+    String rules() {
         StringBuilder b = new StringBuilder();
         int n = 1 + up(9);
         for (int r = 0; r < n; r++) {
@@ -131,7 +131,7 @@ public final class RandomRunsTest {
         return b.toString();
     }
 
-    private String points() {
+    String points() {
         StringBuilder b = new StringBuilder();
         int rings = 1 + up(2);
         for (int r = 0; r < rings; r++) {
@@ -150,7 +150,7 @@ public final class RandomRunsTest {
         return b.toString();
     }
 
-    private String lines() {
+    String lines() {
         StringBuilder b = new StringBuilder();
         int n = up(9);
         for (int i = 0; i < n; i++) {
@@ -163,7 +163,7 @@ public final class RandomRunsTest {
         return b.toString();
     }
 
-    private String told() {
+    String told() {
         StringBuilder b = new StringBuilder();
         int n = up(5);
         for (int i = 0; i < n; i++) {
