@@ -271,7 +271,9 @@ final class Check {
                 int end = written.indexOf(')', i);
                 for (String told : written.substring(i + 1, end).split(",")) {
                     String[] parts = told.split("=");
-                    if (!parts[0].equals("do")) {
+                    if (parts[0].equals("do")) {
+                        putDoing(all.get(all.size() - 1), told.substring(3));
+                    } else {
                         all.get(all.size() - 1).put(parts[0], Integer.parseInt(parts[1]));
                     }
                 }
@@ -295,5 +297,16 @@ final class Check {
             }
         }
         return all;
+    }
+
+    /** What a button does: "do" its cell, "sign" + - or =, "by" the number. */
+    private static void putDoing(Map<String, Integer> widget, String told) {
+        int at = 0;
+        while (Character.isDigit(told.charAt(at))) {
+            at++;
+        }
+        widget.put("do", Integer.parseInt(told.substring(0, at)));
+        widget.put("sign", (int) told.charAt(at));
+        widget.put("by", Integer.parseInt(told.substring(at + 1)));
     }
 }

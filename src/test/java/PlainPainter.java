@@ -27,6 +27,38 @@ final class PlainPainter {
         java.util.Arrays.fill(pixels, -1);
     }
 
+    private static int[] cut(int[] a, int[] b) {
+        int[] c = {Math.max(a[0], b[0]), Math.max(a[1], b[1]), Math.min(a[2], b[2]), Math.min(a[3], b[3])};
+        return c[0] < c[2] && c[1] < c[3] ? c : new int[4];
+    }
+
+    private static int[] place(ScreenKit kit, int w, int frame) {
+        int x = kit.widget(w, 4);
+        int y = kit.widget(w, 5);
+        return new int[] {x + frame, y + frame, Math.max(x + frame, x + kit.widget(w, 6) - frame),
+            Math.max(y + frame, y + kit.widget(w, 7) - frame)};
+    }
+
+    /** Left, top, right, bottom of a widget's content. */
+    static int[] content(ScreenKit kit, int w) {
+        return place(kit, w, kit.styled(w, 3) + kit.styled(w, 4));
+    }
+
+    /** Of each widget what is visible of it, and of its content for what is in it. */
+    static int[][][] visible(ScreenKit kit, int width, int height) {
+        int n = kit.count(1);
+        int[][] seen = new int[n][];
+        int[][] inner = new int[n][];
+        int[] screen = {0, 0, width, height};
+        for (int w = 0; w < n; w++) {
+            boolean free = kit.widget(w, 1) < 0 || kit.widget(w, 0) == 15;
+            int[] around = free ? screen : inner[kit.widget(w, 1)];
+            seen[w] = kit.widget(w, 10) == 1 ? new int[4] : cut(around, place(kit, w, 0));
+            inner[w] = cut(around, content(kit, w));
+        }
+        return new int[][][] {seen, inner};
+    }
+
     int pixel(int i) {
         return pixels[i];
     }
@@ -323,7 +355,7 @@ final class PlainPainter {
     }
 
     /** Of each node: how many are around it, and whether it has children; level by level. */
-    private static int nodes(String text, int at, int depth, List<Character> signs, List<Integer> depths, List<Boolean> kids) {
+    static int nodes(String text, int at, int depth, List<Character> signs, List<Integer> depths, List<Boolean> kids) {
         int latest = -1;
         int i = at;
         while (i < text.length()) {

@@ -100,7 +100,7 @@ public final class ScreenRunsTest {
             lost = true;
             return;
         }
-        int[] content = place(w, kit.styled(w, 3) + kit.styled(w, 4));
+        int[] content = PlainPainter.content(kit, w);
         int columns = data.isEmpty() ? 0 : data.get(0).length;
         boolean head = pointerY >= content[1] && pointerY < Math.min(content[3], content[1] + 6);
         Painted p = widgets.get(w);
@@ -312,30 +312,13 @@ public final class ScreenRunsTest {
         return b.append(kind == 18 ? image(image) : "").toString();
     }
 
-    private static int[] cut(int[] a, int[] b) {
-        int[] c = {Math.max(a[0], b[0]), Math.max(a[1], b[1]), Math.min(a[2], b[2]), Math.min(a[3], b[3])};
-        return c[0] < c[2] && c[1] < c[3] ? c : new int[4];
-    }
-
-    private int[] place(int w, int frame) {
-        int x = kit.widget(w, 4);
-        int y = kit.widget(w, 5);
-        return new int[] {x + frame, y + frame, Math.max(x + frame, x + kit.widget(w, 6) - frame),
-            Math.max(y + frame, y + kit.widget(w, 7) - frame)};
-    }
-
     /** Paints, and compares how many pixels that were. */
     private void paint() {
         int n = widgets.size();
-        int[][] seen = new int[n][];
-        int[][] inner = new int[n][];
+        int[][][] visible = PlainPainter.visible(kit, width, height);
+        int[][] seen = visible[0];
         List<Map<String, Integer>> attributes = Check.attributes(kit);
-        int[] screen = {0, 0, width, height};
         for (int w = 0; w < n; w++) {
-            boolean free = kit.widget(w, 1) < 0 || kit.widget(w, 0) == 15;
-            int[] around = free ? screen : inner[kit.widget(w, 1)];
-            seen[w] = kit.widget(w, 10) == 1 ? new int[4] : cut(around, place(w, 0));
-            inner[w] = cut(around, place(w, kit.styled(w, 3) + kit.styled(w, 4)));
             Painted p = widgets.get(w);
             String look = look(w, seen[w], attributes.get(w).getOrDefault("img", 1));
             if (!look.equals(p.look)) {
@@ -358,7 +341,7 @@ public final class ScreenRunsTest {
         Check.same("dirty pixels", kit.paint(), due);
         all = false;
         dirty = new boolean[width * height];
-        compare(seen, inner, attributes);
+        compare(seen, visible[1], attributes);
     }
 
     /** The dialog in which a widget is, the nearest; null in none. */
