@@ -254,6 +254,24 @@ public final class EdgeEventTest {
         }
     }
 
+    /** Of a button, check, radio key 14 alone is a click. */
+    private static void noKeys() {
+        String[] forms = {"button(bind=1,do=1+1)", "check(bind=1)", "radio(bind=1,pick=5)"};
+        for (String form : forms) {
+            ScreenKit kit = Check.made(40, 20, form, "");
+            kit.put(1, 3);
+            for (int k = 1; k <= 127; k++) {
+                kit.focus(0);
+                if (k != 14) {
+                    kit.key(k, false);
+                    Check.same("key " + k + " of " + form, kit.cell(1), 3);
+                }
+            }
+            kit.key(14, false);
+            Check.same("key 14 of " + form, kit.cell(1) == 3 ? 1 : 0, 0);
+        }
+    }
+
     /** Key 13: to the next one that isn't OFF or hidden; behind the last the first; shift: back. */
     private static void rounds() {
         ScreenKit kit = Check.made(40, 60, "col{label button gap check field row{button} list}", "list{tall:1;}");
@@ -483,6 +501,7 @@ public final class EdgeEventTest {
         doings();
         sliders();
         keys();
+        noKeys();
         rounds();
         losses();
         wheels();

@@ -291,6 +291,19 @@ public final class EdgePaintTest {
         Check.same("cut by the box", Check.picture(kit, 0, 2, 16, 1), "..###.###.###...\n");
     }
 
+    /** Data are seen in tables alone; trees and tabs that stand beside them have their own. */
+    private static void noTables() {
+        String[] forms = {"tree\"\"", "tabs", "list", "gap", "label", "row"};
+        for (String form : forms) {
+            ScreenKit kit = Check.drawn(16, 16, "", form);
+            Check.tell(kit, "bb,b\nb,b").data();
+            kit.paint();
+            for (int i = 0; i < 256; i++) {
+                Check.same("nothing of data in " + form, kit.pixel(i % 16, i / 16), -1);
+            }
+        }
+    }
+
     /** Tabs: each title's letters 2 columns and 1 line within its part, a line below the chosen one's in line 7. */
     private static void titles() {
         ScreenKit kit = Check.drawn(24, 16, "", "tabs(bind=1){gap\"a\" gap\"b\" gap\"a\"}");
@@ -494,7 +507,14 @@ public final class EdgePaintTest {
         for (int i = 0; i < 96 * 64; i++) {
             Check.same("all of it", kit.pixel(i % 96, i / 96), INK);
         }
-        Check.style(kit, "gap{shape:1;ink:10000000;}");
+        kit = Check.made(96, 64, "scroll{row{gap gap}}", "row{shape:1;}gap{wide:60;tall:40;}");
+        Check.tell(kit, "m0 0l256 0l256 256l0 256zm0 0l0 256l128 256l128 0z").shape(1);
+        Check.same("wider than a screen", Check.place(kit, 1), "0 0 120 64");
+        kit.paint();
+        for (int i = 0; i < 96 * 64; i++) {
+            Check.same("from its middle on", kit.pixel(i % 96, i / 96), i % 96 < 60 ? -1 : INK);
+        }
+        kit = Check.made(96, 64, "gap", "gap{shape:1;ink:10000000;}");
         Check.tell(kit, "m0 0l240 0l240 256l0 256z").shape(1);
         Check.form(kit, "stack{gap}");
         Check.style(kit, "stack{align:0;}gap{shape:1;ink:10000000;wide:4;tall:4;}");
@@ -821,6 +841,7 @@ public final class EdgePaintTest {
         middles();
         lists();
         tables();
+        noTables();
         titles();
         pictures();
         reading();
