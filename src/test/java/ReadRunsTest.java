@@ -406,7 +406,7 @@ public final class ReadRunsTest {
     }
 
     /** A text with some signs more, less, other ones, or a part of it twice. */
-    private static String spoiled(RandomRunsTest random, String text) {
+    static String spoiled(RandomRunsTest random, String text) {
         String signs = " \n\"#.,(){}=:;>*@019azqmlAZ_/+-~";
         StringBuilder b = new StringBuilder(text);
         for (int n = random.up(3); n >= 0 && b.length() > 0; n--) {
